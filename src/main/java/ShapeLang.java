@@ -13,7 +13,7 @@ public final class ShapeLang {
     private static final int TAPE_ROOM = 600, SLOTS = 8, VERSIONS = 12, DOCUMENTS = 12;
     private static final int MOST_NODES = 60, MOST_AROUND = 12, MOST_BRACKETS = 12, MOST_ITEMS = 8;
     private static final int MOST_NUMBER = 9999, MOST_PARTS = 24, MOST_LED = 6, MOST_FIELDS = 6, MOST_DEFINITIONS = 4;
-    private static final int MOST_STEPS = 8, MOST_SMALL = 3, MOST_GROWTH = 4, MOST_FACTOR = 100;
+    private static final int MOST_STEPS = 8, MOST_SMALL = 3, MOST_GROWTH = 4, MOST_FACTOR = 100, MOST_SHRUNK = 20;
     /** A guard on recursion over values: no value that is built here stands deeper. */
     private static final int MOST_LEVELS = 80;
 
@@ -115,7 +115,7 @@ public final class ShapeLang {
         needSlot(other);
         needValue(slot);
         needValue(other);
-        return pool.order(valueIn(slot), valueIn(other));
+        return pool.order(valueIn(slot), valueIn(other), 0);
     }
 
     // ---- versions
@@ -143,7 +143,7 @@ public final class ShapeLang {
         lastFault = reader.faultOf();
         needText();
         needRoomForVersion();
-        if (!changes.apply(versionCount)) {
+        if (!changes.make(versionCount)) {
             throw new IllegalStateException("the change is refused");
         }
         versionCount++;
@@ -181,7 +181,7 @@ public final class ShapeLang {
     public boolean isPlain(int version) throws IndexOutOfBoundsException {
         needVersion(version);
         pool.free();
-        return !solver.overlaps(version);
+        return solver.solve(solver.askOverlaps(version)) == NONE;
     }
 
     // ---- shapes
@@ -197,20 +197,23 @@ public final class ShapeLang {
     public int witness(int version, int definition, int otherVersion, int other) throws IndexOutOfBoundsException {
         needBoth(version, definition, otherVersion, other);
         pool.free();
-        return tellNodes(solver.apart(schemas.shapeAt(version, definition), version, schemas.shapeAt(otherVersion, other), otherVersion));
+        solver.askApart(schemas.shapeAt(version, definition), version, schemas.shapeAt(otherVersion, other), otherVersion);
+        return tellNodes(solver.solve(1));
     }
 
     public int common(int version, int definition, int otherVersion, int other) throws IndexOutOfBoundsException {
         needBoth(version, definition, otherVersion, other);
         pool.free();
-        return tellNodes(solver.shared(schemas.shapeAt(version, definition), version, schemas.shapeAt(otherVersion, other), otherVersion));
+        solver.askShared(schemas.shapeAt(version, definition), version, schemas.shapeAt(otherVersion, other), otherVersion);
+        return tellNodes(solver.solve(1));
     }
 
     public int least(int version, int definition) throws IndexOutOfBoundsException {
         needVersion(version);
         needDefinition(version, definition);
         pool.free();
-        return tellNodes(solver.leastOf(schemas.shapeAt(version, definition), version));
+        solver.askLeast(schemas.shapeAt(version, definition), version);
+        return tellNodes(solver.solve(1));
     }
 
     public int infer(int slots, int growth) throws IllegalArgumentException, IllegalStateException {
@@ -258,11 +261,11 @@ public final class ShapeLang {
         int count = 0;
         int up = changes.wayDown(top, from, way);
         for (int i = 0; i < up && i < way.length; i++) {
-            count += changes.losesBackward(way[i]) ? 1 : 0;
+            count += changes.loses(way[i], false) ? 1 : 0;
         }
         int down = changes.wayDown(top, to, way);
         for (int i = 0; i < down && i < way.length; i++) {
-            count += changes.losesForward(way[i]) ? 1 : 0;
+            count += changes.loses(way[i], true) ? 1 : 0;
         }
         return count;
     }
@@ -360,7 +363,7 @@ public final class ShapeLang {
         needVersion(version);
         needSlot(slot);
         pool.free();
-        return fillConverted(slot, carryDocument(document, version));
+        return fillConverted(slot, changes.carry(documentValue(document), versionAt(document), version));
     }
 
     public int move(int version, int most) throws IndexOutOfBoundsException, IllegalArgumentException {
@@ -372,7 +375,7 @@ public final class ShapeLang {
         for (int d = 0; d < documentCount && moved < most; d++) {
             if (versionAt(d) != version) {
                 pool.free();
-                int value = carryDocument(d, version);
+                int value = changes.carry(documentValue(d), versionAt(d), version);
                 if (value != NONE) {
                     pool.keep(DOCUMENT_REGION + d, value);
                     setDocumentVersion(d, version);
@@ -419,7 +422,11 @@ public final class ShapeLang {
         boolean stands = true;
         for (int i = 0; i < theirs && i < otherWay.length && stands; i++) {
             if (!changes.isAmong(otherWay[i], way, mine)) {
-                stands = count < VERSIONS && changes.repeat(otherWay[i], last, count);
+                stands = count < VERSIONS;
+                if (stands) {
+                    reader.readChange(changes.retold(otherWay[i], last, count));
+                    stands = changes.make(count);
+                }
                 last = count;
                 count++;
             }
@@ -459,7 +466,7 @@ public final class ShapeLang {
         fill(slot, BEST_REGION * MOST_NODES);
         Buf text = changes.workText();
         text.wipe();
-        pool.tell(valueIn(slot), text);
+        pool.tell(valueIn(slot), text, 0);
         return text.size();
     }
 
@@ -485,8 +492,11 @@ public final class ShapeLang {
             throw new IllegalStateException("the value is not of the first one, or is of the second one");
         }
         pool.keep(SPARE_REGION, valueIn(slot));
-        int times = samples.shrinkSpare();
-        pool.free();
+        int times = 0;
+        for (int i = 0; i < MOST_SHRUNK && samples.findSmaller(); i++) {
+            pool.keep(SPARE_REGION, BEST_REGION * MOST_NODES);
+            times++;
+        }
         fill(slot, SPARE_REGION * MOST_NODES);
         return times;
     }
@@ -615,13 +625,13 @@ public final class ShapeLang {
         return fill(slot, value);
     }
 
-    private int carryDocument(int document, int version) {
-        return changes.carry((DOCUMENT_REGION + document) * MOST_NODES, versionAt(document), version);
+    private int documentValue(int document) {
+        return (DOCUMENT_REGION + document) * MOST_NODES;
     }
 
     private int tell(int value) {
         out.wipe();
-        pool.tell(value, out);
+        pool.tell(value, out, 0);
         return out.size();
     }
 
@@ -630,7 +640,7 @@ public final class ShapeLang {
         if (value == NONE) {
             return NONE;
         }
-        pool.tell(value, out);
+        pool.tell(value, out, 0);
         return pool.nodesOf(value);
     }
 
@@ -663,6 +673,9 @@ public final class ShapeLang {
 
     /** A row of bytes. */
     private static final class Buf {
+        /** Ahead of the units of a number: the place of its sign. */
+        private static final int SIGN_UNIT = 1000000;
+
         private final byte[] bytes;
         private int count;
 
@@ -684,7 +697,7 @@ public final class ShapeLang {
         }
 
         int last() {
-            return at(count - 1);
+            return count > 0 && count <= bytes.length ? bytes[count - 1] & 255 : NONE;
         }
 
         void add(int b) {
@@ -716,24 +729,32 @@ public final class ShapeLang {
         }
 
         void addNumber(int n) {
-            if (n < 0) {
-                add('-');
-            }
             int size = Math.abs(n);
-            int unit = 1;
-            for (int i = 0; i < 9 && unit <= size / 10; i++) {
-                unit *= 10;
-            }
-            for (int i = 0; i < 10 && unit > 0; i++) {
-                add('0' + size / unit % 10);
-                unit /= 10;
+            for (int unit = SIGN_UNIT; unit > 0; unit /= 10) {
+                boolean sign = unit == SIGN_UNIT;
+                boolean told = sign ? n < 0 : unit == 1 || size >= unit;
+                if (told && count >= 0 && count < bytes.length) {
+                    bytes[count] = (byte) (sign ? '-' : '0' + size / unit % 10);
+                    count++;
+                }
             }
         }
 
         void addLetters(long code, boolean capital) {
-            int letters = lettersIn(code);
-            for (int i = 0; i < letters; i++) {
-                add((capital && i == 0 ? 'A' : 'a') - 1 + letterAt(code, i, letters));
+            int first = capital ? 'A' : 'a';
+            for (int i = POWERS.length - 1; i >= 0; i--) {
+                if (code >= POWERS[i] && count >= 0 && count < bytes.length) {
+                    bytes[count] = (byte) (first - 1 + code / POWERS[i] % 27);
+                    count++;
+                    first = 'a';
+                }
+            }
+        }
+
+        void addWord(String word) {
+            for (int i = 0; i < word.length() && count >= 0 && count < bytes.length; i++) {
+                bytes[count] = (byte) word.charAt(i);
+                count++;
             }
         }
 
@@ -804,53 +825,46 @@ public final class ShapeLang {
             return edgeTop;
         }
 
-        private static boolean stands(int v) {
-            return v >= 0 && v < ROOM;
-        }
-
         int kindOf(int v) {
-            return stands(v) ? kind[v] : NONE;
+            return v >= 0 && v < ROOM ? kind[v] : NONE;
         }
 
         int nodesOf(int v) {
-            return stands(v) ? nodes[v] : 0;
+            return v >= 0 && v < ROOM ? nodes[v] : 0;
         }
 
         /** How many values are around the one that is deepest in it. */
         int aroundIn(int v) {
-            return stands(v) ? around[v] : 0;
+            return v >= 0 && v < ROOM ? around[v] : 0;
         }
 
         /** The number, the letters of the text, or those of the tag. */
         long codeOf(int v) {
-            return stands(v) ? code[v] : 0;
+            return v >= 0 && v < ROOM ? code[v] : 0;
         }
 
         int sizeOf(int v) {
-            return stands(v) ? size[v] : 0;
-        }
-
-        private int edge(int v, int i) {
-            int e = stands(v) && i >= 0 && i < size[v] ? start[v] + i : NONE;
-            return e >= 0 && e < ROOM ? e : NONE;
+            return v >= 0 && v < ROOM ? size[v] : 0;
         }
 
         int childOf(int v, int i) {
-            int e = edge(v, i);
-            return e == NONE ? NONE : child[e];
+            int e = v >= 0 && v < ROOM && i >= 0 && i < size[v] ? start[v] + i : NONE;
+            return e >= 0 && e < ROOM ? child[e] : NONE;
         }
 
         /** The name of a field, or the key of an entry. */
         long labelOf(int v, int i) {
-            int e = edge(v, i);
-            return e == NONE ? 0 : label[e];
+            int e = v >= 0 && v < ROOM && i >= 0 && i < size[v] ? start[v] + i : NONE;
+            return e >= 0 && e < ROOM ? label[e] : 0;
         }
 
         /** The value of a field of a record; NONE if it is missing. */
         int field(int v, long name) {
-            for (int i = 0; i < sizeOf(v); i++) {
-                if (labelOf(v, i) == name) {
-                    return childOf(v, i);
+            int first = v >= 0 && v < ROOM ? start[v] : 0;
+            int count = v >= 0 && v < ROOM ? size[v] : 0;
+            for (int e = first; e < first + count && e >= 0 && e < ROOM; e++) {
+                if (label[e] == name) {
+                    return child[e];
                 }
             }
             return NONE;
@@ -883,7 +897,7 @@ public final class ShapeLang {
         /** A value of what was pushed since a mark; NONE if there is no room or something pushed is none. */
         int close(int newKind, long newCode, int mark) {
             int count = stackTop - mark;
-            if (mark < 0 || count < 0 || top >= ROOM || edgeTop + count > ROOM) {
+            if (mark < 0 || count < 0 || top < 0 || top >= ROOM || edgeTop < 0 || edgeTop + count > ROOM) {
                 return NONE;
             }
             stackTop = mark;
@@ -891,7 +905,7 @@ public final class ShapeLang {
             int deepest = 0;
             for (int i = 0; i < count && mark + i < STACK; i++) {
                 int v = stackValue[mark + i];
-                if (!stands(v)) {
+                if (v < 0 || v >= ROOM) {
                     return NONE;
                 }
                 sum += nodes[v];
@@ -969,7 +983,7 @@ public final class ShapeLang {
             for (int i = 0; i < used && i < queue.length; i++) {
                 int from = queue[i];
                 int to = base + i;
-                if (!stands(from) || !stands(to)) {
+                if (from < 0 || from >= ROOM || to < 0 || to >= ROOM) {
                     return NONE;
                 }
                 kind[to] = kind[from];
@@ -982,7 +996,7 @@ public final class ShapeLang {
                 int newStart = edgeBase + used - 1;
                 start[to] = newStart;
                 for (int k = 0; k < count && used < queue.length; k++) {
-                    if (!stands(oldStart + k) || !stands(newStart + k)) {
+                    if (oldStart + k < 0 || oldStart + k >= ROOM || newStart + k < 0 || newStart + k >= ROOM) {
                         return NONE;
                     }
                     label[newStart + k] = label[oldStart + k];
@@ -994,45 +1008,38 @@ public final class ShapeLang {
             return base;
         }
 
-        /** -1, 0 or 1 by the order of values. */
-        int order(int v, int w) {
-            return orderAt(v, w, 0);
-        }
-
-        private int orderAt(int v, int w, int depth) {
-            if (v == w || depth > MOST_LEVELS) {
+        /** -1, 0 or 1 by the order of values; the depth is that of the values in those that are compared. */
+        private int order(int v, int w, int depth) {
+            if (v == w || depth > MOST_LEVELS || v < 0 || v >= ROOM || w < 0 || w >= ROOM) {
                 return 0;
             }
-            int first = Integer.compare(nodesOf(v), nodesOf(w));
+            int first = Integer.compare(nodes[v], nodes[w]);
             if (first == 0) {
-                first = Integer.compare(kindOf(v), kindOf(w));
+                first = Integer.compare(kind[v], kind[w]);
+            }
+            if (first == 0 && kind[v] == NUMBER) {
+                first = Long.compare(Math.abs(code[v]), Math.abs(code[w]));
+                return first != 0 ? first : Long.compare(code[w], code[v]);
             }
             if (first == 0) {
-                first = kindOf(v) == NUMBER ? orderNumbers(codeOf(v), codeOf(w)) : Long.compare(codeOf(v), codeOf(w));
+                first = Long.compare(code[v], code[w]);
             }
             if (first == 0) {
-                first = Integer.compare(sizeOf(v), sizeOf(w));
+                first = Integer.compare(size[v], size[w]);
             }
-            for (int i = 0; i < sizeOf(v) && first == 0; i++) {
-                first = Long.compare(labelOf(v, i), labelOf(w, i));
-                if (first == 0) {
-                    first = orderAt(childOf(v, i), childOf(w, i), depth + 1);
+            for (int i = 0; i < size[v] && first == 0; i++) {
+                int e = start[v] + i;
+                int f = start[w] + i;
+                if (e >= 0 && e < ROOM && f >= 0 && f < ROOM) {
+                    first = Long.compare(label[e], label[f]);
+                    first = first != 0 ? first : order(child[e], child[f], depth + 1);
                 }
             }
             return first;
         }
 
-        static int orderNumbers(long n, long m) {
-            int first = Long.compare(Math.abs(n), Math.abs(m));
-            return first != 0 ? first : Long.compare(m, n);
-        }
-
         /** The text of a value comes behind the bytes. */
-        void tell(int v, Buf to) {
-            tellAt(v, to, 0);
-        }
-
-        private void tellAt(int v, Buf to, int depth) {
+        private void tell(int v, Buf to, int depth) {
             int k = kindOf(v);
             if (depth > MOST_LEVELS) {
                 return;
@@ -1051,7 +1058,7 @@ public final class ShapeLang {
                         to.add(',');
                     }
                     tellLabel(k, labelOf(v, i), to);
-                    tellAt(childOf(v, i), to, depth + 1);
+                    tell(childOf(v, i), to, depth + 1);
                 }
                 to.add(k == LIST ? ']' : k == RECORD ? '}' : k == MAP ? '>' : ')');
             }
@@ -1178,12 +1185,8 @@ public final class ShapeLang {
             return true;
         }
 
-        /** Whether the schema that was built is as the document tells, its counts being looked at already. */
-        boolean isSound() {
-            return isNamed() && isLed() && isSpread();
-        }
-
-        private boolean isNamed() {
+        /** Whether the definitions have unlike names, and each REF is of one of them; they are looked up here. */
+        boolean isNamed() {
             for (int d = 0; d < count[shelf]; d++) {
                 if (definitionNamed(name[shelf * MOST_DEFINITIONS + d]) != d) {
                     return false;
@@ -1211,7 +1214,7 @@ public final class ShapeLang {
         }
 
         /** Finds to which parts each definition leads; false if one leads to itself by REF alone, or to too many. */
-        private boolean isLed() {
+        boolean isLed() {
             int defined = count[shelf];
             for (int d = 0; d < defined; d++) {
                 leadCount[shelf * MOST_DEFINITIONS + d] = NONE;
@@ -1246,7 +1249,7 @@ public final class ShapeLang {
         }
 
         /** Whether no shape leads to too many parts, and the shapes that lead to two of a kind are few and not in themselves. */
-        private boolean isSpread() {
+        boolean isSpread() {
             Arrays.fill(next, 0);
             doubles = 0;
             for (int d = 0; d < count[shelf]; d++) {
@@ -1341,10 +1344,6 @@ public final class ShapeLang {
             return part * 8 + 1;
         }
 
-        private static boolean stands(int p) {
-            return p >= 0 && p < ROOM;
-        }
-
         /** The place behind the last part of a version; its first one is on the place of its shelf. */
         int endOfShelf(int version) {
             return version >= 0 && version < SHELVES ? partEnd[version] : 0;
@@ -1354,60 +1353,59 @@ public final class ShapeLang {
             return version >= 0 && version < SHELVES ? count[version] : 0;
         }
 
-        private static int definition(int version, int d) {
-            int place = version * MOST_DEFINITIONS + d;
-            return version >= 0 && version < SHELVES && d >= 0 && d < MOST_DEFINITIONS ? place : 0;
-        }
-
         /** The shape of a definition. */
         int shapeAt(int version, int d) {
-            return shape[definition(version, d)];
+            int at = version * MOST_DEFINITIONS + d;
+            return at >= 0 && at < NAMES ? shape[at] : 0;
         }
 
-        int nameOf(int version, int d) {
-            return name[definition(version, d)];
+        private int nameOf(int version, int d) {
+            int at = version * MOST_DEFINITIONS + d;
+            return at >= 0 && at < NAMES ? name[at] : 0;
         }
 
         int kindOf(int p) {
-            return stands(p) ? kind[p] : NONE;
+            return p >= 0 && p < ROOM ? kind[p] : NONE;
         }
 
         int lowOf(int p) {
-            return stands(p) ? low[p] : 0;
+            return p >= 0 && p < ROOM ? low[p] : 0;
         }
 
         int highOf(int p) {
-            return stands(p) ? high[p] : 0;
+            return p >= 0 && p < ROOM ? high[p] : 0;
         }
 
         int innerOf(int p) {
-            return stands(p) ? inner[p] : 0;
+            return p >= 0 && p < ROOM ? inner[p] : 0;
         }
 
         int firstField(int p) {
-            return kindOf(p) == RECORD ? lowOf(p) : 0;
+            return p >= 0 && p < ROOM && kind[p] == RECORD ? low[p] : 0;
         }
 
         int endField(int p) {
-            return kindOf(p) == RECORD ? lowOf(p) + highOf(p) : 0;
+            return p >= 0 && p < ROOM && kind[p] == RECORD ? low[p] + high[p] : 0;
         }
 
         int nameOfField(int f) {
-            return stands(f) ? fieldName[f] : 0;
+            return f >= 0 && f < ROOM ? fieldName[f] : 0;
         }
 
         int shapeOfField(int f) {
-            return stands(f) ? fieldShape[f] : 0;
+            return f >= 0 && f < ROOM ? fieldShape[f] : 0;
         }
 
         boolean mayMiss(int f) {
-            return stands(f) && fieldMay[f];
+            return f >= 0 && f < ROOM && fieldMay[f];
         }
 
         /** The field of a part with a name; NONE if it has none. */
         int fieldNamed(int p, long wanted) {
-            for (int f = firstField(p); f < endField(p); f++) {
-                if (nameOfField(f) == wanted) {
+            int first = p >= 0 && p < ROOM && kind[p] == RECORD ? low[p] : 0;
+            int end = p >= 0 && p < ROOM && kind[p] == RECORD ? low[p] + high[p] : 0;
+            for (int f = first; f < end && f >= 0 && f < ROOM; f++) {
+                if (fieldName[f] == wanted) {
                     return f;
                 }
             }
@@ -1428,9 +1426,9 @@ public final class ShapeLang {
         /** The parts to which a shape leads come into a row from a place on; returns the place behind them. */
         int leads(int shapeCode, int version, int[] into, int at) {
             int to = at;
-            for (int p = firstOf(shapeCode); p < endOf(shapeCode); p++) {
-                int d = kindOf(p) == REF ? definition(version, lowOf(p)) : NONE;
-                int more = d == NONE ? 1 : leadCount[d];
+            for (int p = shapeCode >> 3; p < (shapeCode >> 3) + (shapeCode & 7) && p >= 0 && p < ROOM; p++) {
+                int d = kind[p] == REF ? version * MOST_DEFINITIONS + low[p] : NONE;
+                int more = d == NONE ? 1 : d >= 0 && d < NAMES ? leadCount[d] : 0;
                 for (int i = 0; i < more && i < MOST_LED && to >= 0 && to < into.length; i++) {
                     into[to] = d == NONE ? p : lead[d * MOST_LED + i];
                     to++;
@@ -1441,53 +1439,45 @@ public final class ShapeLang {
 
         // -- texts that fit items: a set of places between items is a mask
 
-        private boolean isLoose(int p, int i) {
-            int at = lowOf(p) + i;
-            return at >= 0 && at < item.length && item[at] % 3 != 0;
-        }
-
-        private int passLoose(int p, int mask) {
-            int passed = mask;
-            for (int i = 0; i < highOf(p) && i < MOST_ITEMS; i++) {
-                if ((passed >> i & 1) != 0 && isLoose(p, i)) {
-                    passed |= 2 << i;
-                }
-            }
-            return passed;
-        }
-
         /** The places ahead of the first letter. */
         int startPlaces(int p) {
-            return passLoose(p, 1);
+            int places = 1;
+            int first = p >= 0 && p < ROOM ? low[p] : 0;
+            int count = p >= 0 && p < ROOM ? high[p] : 0;
+            for (int i = 0; i < count && i < MOST_ITEMS && first + i >= 0 && first + i < item.length; i++) {
+                boolean loose = item[first + i] % 3 != 0;
+                places |= loose && (places >> i & 1) != 0 ? 2 << i : 0;
+            }
+            return places;
         }
 
-        /** The places behind a letter, 0 for a, from those ahead of it. */
+        /** The places behind a letter, 0 for a, from those ahead of it; what may be passed over is passed over. */
         int stepPlaces(int p, int mask, int letter) {
-            if (highOf(p) == 0) {
-                return mask;
-            }
-            int stepped = 0;
-            for (int i = 0; i < highOf(p) && i < MOST_ITEMS; i++) {
-                int at = lowOf(p) + i;
-                int sign = at >= 0 && at < item.length ? item[at] : NONE;
-                boolean fits = sign >= 0 && (sign / 3 == ANY || sign / 3 == letter);
-                if (fits && (mask >> i & 1) != 0) {
-                    stepped |= sign % 3 == STAR ? 1 << i : 2 << i;
+            int first = p >= 0 && p < ROOM ? low[p] : 0;
+            int count = p >= 0 && p < ROOM ? high[p] : 0;
+            int places = count == 0 ? mask : 0;
+            for (int i = 0; i < count && i < MOST_ITEMS && first + i >= 0 && first + i < item.length; i++) {
+                int sign = item[first + i] / 3;
+                int times = item[first + i] % 3;
+                if ((mask >> i & 1) != 0 && (sign == ANY || sign == letter)) {
+                    places |= times == STAR ? 1 << i : 2 << i;
                 }
+                places |= times != 0 && (places >> i & 1) != 0 ? 2 << i : 0;
             }
-            return passLoose(p, stepped);
+            return places;
         }
 
         boolean endsIn(int p, int mask) {
-            return (mask >> highOf(p) & 1) != 0;
+            return p >= 0 && p < ROOM && (mask >> high[p] & 1) != 0;
         }
 
         /** The letters that the items name, a as bit 0. */
         int lettersNamed(int p) {
             int letters = 0;
-            for (int i = 0; i < highOf(p) && i < MOST_ITEMS; i++) {
-                int at = lowOf(p) + i;
-                int sign = at >= 0 && at < item.length ? item[at] / 3 : ANY;
+            int first = p >= 0 && p < ROOM ? low[p] : 0;
+            int count = p >= 0 && p < ROOM ? high[p] : 0;
+            for (int i = 0; i < count && i < MOST_ITEMS && first + i >= 0 && first + i < item.length; i++) {
+                int sign = item[first + i] / 3;
                 letters |= sign == ANY ? 0 : 1 << sign;
             }
             return letters;
@@ -1505,18 +1495,28 @@ public final class ShapeLang {
         // -- values of shapes
 
         boolean holds(int v, int shapeCode, int version) {
-            return partAt(v, shapeCode, version, 0) != NONE;
+            return partFor(v, shapeCode, version, 0) != NONE;
+        }
+
+        /** Whether a number is of a shape. */
+        boolean hasNumber(int shapeCode, int version, long number) {
+            boolean has = false;
+            for (int p = shapeCode >> 3; p < (shapeCode >> 3) + (shapeCode & 7) && p >= 0 && p < ROOM; p++) {
+                int d = kind[p] == REF ? version * MOST_DEFINITIONS + low[p] : NONE;
+                int more = d == NONE ? 1 : d >= 0 && d < NAMES ? leadCount[d] : 0;
+                for (int i = 0; i < more && i < MOST_LED; i++) {
+                    int q = d == NONE ? p : lead[d * MOST_LED + i];
+                    has |= q >= 0 && q < ROOM && kind[q] == NUMBER && number >= low[q] && number <= high[q];
+                }
+            }
+            return has;
         }
 
         /** The first part to which a shape leads of which the value is; NONE if it is of none. */
-        int partFor(int v, int shapeCode, int version) {
-            return partAt(v, shapeCode, version, 0);
-        }
-
-        private int partAt(int v, int shapeCode, int version, int depth) {
+        private int partFor(int v, int shapeCode, int version, int depth) {
             for (int p = firstOf(shapeCode); p < endOf(shapeCode) && depth <= MOST_LEVELS; p++) {
-                int d = kindOf(p) == REF ? definition(version, lowOf(p)) : NONE;
-                int more = d == NONE ? 1 : leadCount[d];
+                int d = kindOf(p) == REF ? version * MOST_DEFINITIONS + lowOf(p) : NONE;
+                int more = d == NONE ? 1 : d >= 0 && d < NAMES ? leadCount[d] : 0;
                 for (int i = 0; i < more && i < MOST_LED; i++) {
                     int q = d == NONE ? p : lead[d * MOST_LED + i];
                     if (isOfPart(v, q, version, depth)) {
@@ -1540,7 +1540,7 @@ public final class ShapeLang {
                 case RECORD:
                     return isOfRecord(v, p, version, depth);
                 case TAGGED:
-                    return pool.codeOf(v) == lowOf(p) && partAt(pool.childOf(v, 0), innerOf(p), version, depth + 1) != NONE;
+                    return pool.codeOf(v) == lowOf(p) && partFor(pool.childOf(v, 0), innerOf(p), version, depth + 1) != NONE;
                 default:
                     return isOfRow(v, p, version, depth);
             }
@@ -1550,7 +1550,7 @@ public final class ShapeLang {
             int size = pool.sizeOf(v);
             boolean is = size >= lowOf(p) && size <= highOf(p);
             for (int i = 0; i < size && is; i++) {
-                is = partAt(pool.childOf(v, i), innerOf(p), version, depth + 1) != NONE;
+                is = partFor(pool.childOf(v, i), innerOf(p), version, depth + 1) != NONE;
             }
             return is;
         }
@@ -1559,7 +1559,7 @@ public final class ShapeLang {
             int had = 0;
             for (int f = firstField(p); f < endField(p); f++) {
                 int part = pool.field(v, nameOfField(f));
-                if (part == NONE ? !mayMiss(f) : partAt(part, shapeOfField(f), version, depth + 1) == NONE) {
+                if (part == NONE ? !mayMiss(f) : partFor(part, shapeOfField(f), version, depth + 1) == NONE) {
                     return false;
                 }
                 had += part == NONE ? 0 : 1;
@@ -1572,7 +1572,7 @@ public final class ShapeLang {
         void tellSchema(int version, Buf to) {
             for (int d = 0; d < definitions(version); d++) {
                 tellDefinitionName(version, d, to);
-                tellShape(shapeAt(version, d), to);
+                tellShape(shapeAt(version, d), to, 0);
                 to.add(';');
             }
         }
@@ -1582,11 +1582,7 @@ public final class ShapeLang {
             to.add('=');
         }
 
-        void tellShape(int shapeCode, Buf to) {
-            tellShapeAt(shapeCode, to, 0);
-        }
-
-        private void tellShapeAt(int shapeCode, Buf to, int depth) {
+        private void tellShape(int shapeCode, Buf to, int depth) {
             for (int p = firstOf(shapeCode); p < endOf(shapeCode) && depth <= MOST_BRACKETS; p++) {
                 if (p > firstOf(shapeCode)) {
                     to.add('|');
@@ -1605,7 +1601,7 @@ public final class ShapeLang {
                     break;
                 case LIST:
                     to.add('[');
-                    tellShapeAt(innerOf(p), to, depth + 1);
+                    tellShape(innerOf(p), to, depth + 1);
                     if (lowOf(p) != 0 || highOf(p) != MOST_ITEMS) {
                         to.add(';');
                         tellInts(lowOf(p), highOf(p), to);
@@ -1616,20 +1612,19 @@ public final class ShapeLang {
                     to.add('{');
                     for (int f = firstField(p); f < endField(p); f++) {
                         to.addComma('{');
-                        tellFieldName(nameOfField(f), mayMiss(f), to);
-                        tellShapeAt(shapeOfField(f), to, depth + 1);
+                        tellField(f, to, depth + 1);
                     }
                     to.add('}');
                     break;
                 case TAGGED:
                     to.addLetters(lowOf(p), true);
                     to.add('(');
-                    tellShapeAt(innerOf(p), to, depth + 1);
+                    tellShape(innerOf(p), to, depth + 1);
                     to.add(')');
                     break;
                 case MAP:
                     to.add('<');
-                    tellShapeAt(innerOf(p), to, depth + 1);
+                    tellShape(innerOf(p), to, depth + 1);
                     to.add('>');
                     break;
                 case REF:
@@ -1637,9 +1632,15 @@ public final class ShapeLang {
                     to.addLetters(nameOf(p / MOST_PARTS, lowOf(p)), true);
                     break;
                 default:
-                    tellWord(to, 'n', 'o', 'n', 'e');
+                    to.addWord("none");
                     break;
             }
+        }
+
+        /** The name of a field and its shape. */
+        private void tellField(int f, Buf to, int depth) {
+            tellFieldName(nameOfField(f), mayMiss(f), to);
+            tellShape(shapeOfField(f), to, depth);
         }
 
         static void tellFieldName(int fieldCode, boolean may, Buf to) {
@@ -1650,33 +1651,25 @@ public final class ShapeLang {
             to.add(':');
         }
 
-        static void tellWord(Buf to, int first, int second, int third, int fourth) {
-            to.add(first);
-            to.add(second);
-            to.add(third);
-            to.add(fourth);
-        }
-
         static void tellNum(int least, int most, Buf to) {
-            to.add('n');
-            to.add('u');
-            to.add('m');
+            to.addWord("num");
             if (least != -MOST_NUMBER || most != MOST_NUMBER) {
                 to.add('(');
-                tellInts(least, most, to);
+                to.addNumber(least);
+                to.addWord("..");
+                to.addNumber(most);
                 to.add(')');
             }
         }
 
         static void tellInts(int least, int most, Buf to) {
             to.addNumber(least);
-            to.add('.');
-            to.add('.');
+            to.addWord("..");
             to.addNumber(most);
         }
 
         private void tellItems(int p, Buf to) {
-            tellWord(to, 't', 'e', 'x', 't');
+            to.addWord("text");
             if (highOf(p) == 0) {
                 return;
             }
@@ -1868,7 +1861,8 @@ public final class ShapeLang {
 
         int readValueText(Buf told) {
             open(told, false);
-            int value = readWholeValue();
+            int value = readValue();
+            odd |= pool.nodesOf(value) > MOST_NODES;
             finish();
             return value;
         }
@@ -1885,7 +1879,7 @@ public final class ShapeLang {
                     odd = true;
                 }
             }
-            if (fault == NONE && !odd && !schemas.isSound()) {
+            if (fault == NONE && !odd && !(schemas.isNamed() && schemas.isLed() && schemas.isSpread())) {
                 odd = true;
             }
             finish();
@@ -1967,7 +1961,9 @@ public final class ShapeLang {
         private void readDefault(Version version) {
             expect('=');
             if (peek() != '(') {
-                version.tellDefault(readWholeValue(), NONE, NONE);
+                int value = readValue();
+                odd |= pool.nodesOf(value) > MOST_NODES;
+                version.tellDefault(value, NONE, NONE);
                 return;
             }
             operands = 0;
@@ -1984,11 +1980,11 @@ public final class ShapeLang {
         // -- signs
 
         private int peek() {
-            return fault == NONE ? text.at(at) : NONE;
+            return fault == NONE && at >= 0 && at < text.count && at < text.bytes.length ? text.bytes[at] & 255 : NONE;
         }
 
         private boolean hasMore() {
-            return fault == NONE && at < text.size();
+            return fault == NONE && at < text.count;
         }
 
         private void miss() {
@@ -1998,10 +1994,8 @@ public final class ShapeLang {
         }
 
         private boolean skip(int sign) {
-            boolean there = peek() == sign;
-            if (there) {
-                at++;
-            }
+            boolean there = fault == NONE && at >= 0 && at < text.count && at < text.bytes.length && (text.bytes[at] & 255) == sign;
+            at += there ? 1 : 0;
             return there;
         }
 
@@ -2020,7 +2014,9 @@ public final class ShapeLang {
         }
 
         private void closeBracket(int sign) {
-            expect(sign);
+            if (!skip(sign)) {
+                miss();
+            }
             depth--;
         }
 
@@ -2088,14 +2084,6 @@ public final class ShapeLang {
         }
 
         // -- values
-
-        private int readWholeValue() {
-            int value = readValue();
-            if (pool.nodesOf(value) > MOST_NODES) {
-                odd = true;
-            }
-            return value;
-        }
 
         /** Brackets guard the depth: none is opened inside 12 others. */
         private int readValue() {
@@ -2276,7 +2264,7 @@ public final class ShapeLang {
         }
 
         private static boolean isItem(int sign) {
-            return isSmall(sign) || sign == '.';
+            return sign == '.' || sign >= 'a' && sign <= 'z';
         }
 
         /** Tells whether the item is with a star or a question mark. */
@@ -2613,29 +2601,28 @@ public final class ShapeLang {
 
         // -- what is asked
 
-        int leastOf(int shape, int by) {
+        /** The next task is the least value of a shape. */
+        void askLeast(int shape, int by) {
             reset(by, by, by);
             ask(shape, NONE);
-            return solve(1);
         }
 
-        /** The least value that is of the first shape and not of the second one. */
-        int apart(int shape, int by, int other, int otherBy) {
+        /** The next task is the least value that is of the first shape and not of the second one. */
+        void askApart(int shape, int by, int other, int otherBy) {
             reset(by, by, otherBy);
             keyCount = 1;
             key[0] = other;
             stateOf(shape, NONE);
-            return solve(1);
         }
 
-        int shared(int shape, int by, int other, int otherBy) {
+        /** The next task is the least value that is of both shapes. */
+        void askShared(int shape, int by, int other, int otherBy) {
             reset(by, otherBy, by);
             ask(shape, other);
-            return solve(1);
         }
 
-        /** Whether two parts of one shape of a version have a common value. */
-        boolean overlaps(int by) {
+        /** The next tasks are the common values of all two parts of one shape of a version; returns how many these are. */
+        int askOverlaps(int by) {
             reset(by, by, by);
             for (int d = 0; d < schemas.definitions(by); d++) {
                 askPairs(schemas.shapeAt(by, d), by);
@@ -2649,7 +2636,7 @@ public final class ShapeLang {
                     askPairs(schemas.shapeOfField(f), by);
                 }
             }
-            return solve(count) != NONE;
+            return count;
         }
 
         private void askPairs(int shape, int by) {
@@ -2716,9 +2703,13 @@ public final class ShapeLang {
         }
 
         private boolean isState(int s, int first, int second) {
-            boolean same = get(s, FIRST) == first && get(s, SECOND) == second && get(s, NOTS) == keyCount;
+            int base = s * STRIDE;
+            if (base < 0 || base + STRIDE > state.length) {
+                return false;
+            }
+            boolean same = state[base + FIRST] == first && state[base + SECOND] == second && state[base + NOTS] == keyCount;
             for (int i = 0; i < keyCount && i < key.length && same; i++) {
-                same = get(s, NOT + i) == key[i];
+                same = state[base + NOT + i] == key[i];
             }
             return same;
         }
@@ -2744,31 +2735,31 @@ public final class ShapeLang {
         }
 
         private int beginState(int first, int second, int spot) {
-            int s = count;
-            if (s >= STATES) {
+            int base = count * STRIDE;
+            if (count >= STATES || base < 0 || base + STRIDE > state.length) {
                 return NONE;
             }
-            set(s, FIRST, first);
-            set(s, SECOND, second);
-            set(s, NOTS, keyCount);
+            state[base + FIRST] = first;
+            state[base + SECOND] = second;
+            state[base + NOTS] = keyCount;
             for (int i = 0; i < keyCount && i < key.length; i++) {
-                set(s, NOT + i, key[i]);
+                state[base + NOT + i] = key[i];
             }
-            set(s, VALUE, NONE);
-            set(s, SEEN, NONE);
-            set(s, WAIT, FAR);
-            set(s, SPOT, spot);
+            state[base + VALUE] = NONE;
+            state[base + SEEN] = NONE;
+            state[base + WAIT] = FAR;
+            state[base + SPOT] = spot;
             if (spot >= 0 && spot < hash.length) {
-                hash[spot] = s + 1;
+                hash[spot] = count + 1;
             }
             count++;
-            return s;
+            return count - 1;
         }
 
         // -- solving
 
         /** The least value of the first of the first states that has one; NONE if none has one. */
-        private int solve(int roots) {
+        int solve(int roots) {
             for (int n = 1; n <= MOST_NODES; n++) {
                 for (int s = 0; s < count; s++) {
                     boolean changed = get(s, SEEN) != settled || get(s, WAIT) <= n;
@@ -2790,23 +2781,34 @@ public final class ShapeLang {
             load(s);
             set(s, SEEN, settled);
             set(s, WAIT, FAR);
-            int value = n == 1 ? leaf() : NONE;
-            if (value == NONE) {
-                value = bestOf(s, LIST, n);
+            int value = NONE;
+            if (n == 1) {
+                int number = leastNumber();
+                value = number == FAR ? NONE : pool.number(number);
+                long letters = value == NONE ? texts.find(lead, leadCount, hasSecond()) : NONE;
+                value = letters == NONE ? value : pool.text(letters);
             }
-            if (value == NONE) {
-                value = bestOf(s, RECORD, n);
-            }
-            if (value == NONE) {
-                value = bestOf(s, TAGGED, n);
-            }
-            if (value == NONE) {
-                value = bestOf(s, MAP, n);
+            for (int kind = LIST; kind <= MAP && value == NONE; kind++) {
+                for (int i = 0; i < leadCount[0]; i++) {
+                    int p = part(0, i);
+                    int others = hasSecond() ? leadCount[1] : 1;
+                    for (int j = 0; j < others && schemas.kindOf(p) == kind; j++) {
+                        int q = hasSecond() ? part(1, j) : NONE;
+                        if (q == NONE || isAlike(p, q)) {
+                            pickAgainst(p);
+                            value = lesser(value, kind == RECORD ? recordOf(s, p, q, n) : kind == TAGGED ? taggedOf(s, p, q, n) : rowOf(s, p, q, n));
+                        }
+                    }
+                }
             }
             if (value != NONE) {
                 set(s, VALUE, value);
                 settled++;
             }
+        }
+
+        private boolean isAlike(int p, int q) {
+            return schemas.kindOf(p) == schemas.kindOf(q) && (schemas.kindOf(p) != TAGGED || schemas.lowOf(p) == schemas.lowOf(q));
         }
 
         private void load(int s) {
@@ -2831,9 +2833,9 @@ public final class ShapeLang {
 
         // -- numbers and texts
 
-        private int leaf() {
-            int best = FAR;
-            best = nearer(best, 0);
+        /** The first number by order; FAR if there is none. It is 0, or stands at an end of numbers. */
+        private int leastNumber() {
+            int best = nearer(FAR, 0);
             for (int side = 0; side < 3; side++) {
                 for (int i = 0; i < leadCount[side]; i++) {
                     int p = part(side, i);
@@ -2844,16 +2846,13 @@ public final class ShapeLang {
                     }
                 }
             }
-            if (best != FAR) {
-                return pool.number(best);
-            }
-            long letters = texts.find(lead, leadCount, hasSecond());
-            return letters == NONE ? NONE : pool.text(letters);
+            return best;
         }
 
         private int nearer(int best, int number) {
             boolean is = hasNumber(0, number) && (!hasSecond() || hasNumber(1, number)) && !hasNumber(2, number);
-            return is && (best == FAR || Pool.orderNumbers(number, best) < 0) ? number : best;
+            boolean first = Math.abs(number) < Math.abs(best) || number > 0 && number == -best;
+            return is && first ? number : best;
         }
 
         private boolean hasNumber(int side, int number) {
@@ -2868,55 +2867,28 @@ public final class ShapeLang {
 
         // -- values with values in them
 
-        /** The least value of a kind that can be put together with just so many nodes. */
-        private int bestOf(int s, int kind, int n) {
-            int best = NONE;
-            for (int i = 0; i < leadCount[0]; i++) {
-                int p = part(0, i);
-                int others = hasSecond() ? leadCount[1] : 1;
-                for (int j = 0; j < others && schemas.kindOf(p) == kind; j++) {
-                    int q = hasSecond() ? part(1, j) : NONE;
-                    boolean pairs = q == NONE || schemas.kindOf(q) == kind && (kind != TAGGED || schemas.lowOf(p) == schemas.lowOf(q));
-                    if (pairs) {
-                        best = lesser(best, candidate(s, p, q, n));
-                    }
-                }
-            }
-            return best;
-        }
-
         private int lesser(int v, int w) {
             if (v == NONE || w == NONE) {
                 return v == NONE ? w : v;
             }
-            return pool.order(w, v) < 0 ? w : v;
+            return pool.order(w, v, 0) < 0 ? w : v;
         }
 
-        private int candidate(int s, int p, int q, int n) {
-            int kind = schemas.kindOf(p);
-            pickAgainst(p);
-            if (kind == RECORD) {
-                return recordOf(s, p, q, n);
+        private int taggedOf(int s, int p, int q, int n) {
+            avoidInner();
+            int inner = valueOf(schemas.innerOf(p), q == NONE ? NONE : schemas.innerOf(q), (1 << againstCount) - 1);
+            if (!isReached(s, costOf(inner) + 1, n)) {
+                return NONE;
             }
-            for (int j = 0; j < againstCount; j++) {
+            int mark = pool.stackMark();
+            pool.push(0, inner);
+            return pool.close(TAGGED, schemas.lowOf(p), mark);
+        }
+
+        private void avoidInner() {
+            for (int j = 0; j < againstCount && j < AGAINST; j++) {
                 avoided[j] = schemas.innerOf(against[j]);
             }
-            int all = (1 << againstCount) - 1;
-            if (kind == TAGGED) {
-                int inner = valueOf(schemas.innerOf(p), q == NONE ? NONE : schemas.innerOf(q), all);
-                int mark = pool.stackMark();
-                pool.push(0, inner);
-                return isReached(s, costOf(inner) + 1, n) ? pool.close(TAGGED, schemas.lowOf(p), mark) : unpush(mark);
-            }
-            for (int set = 0; set <= all; set++) {
-                cell[0][set] = valueOf(schemas.innerOf(p), q == NONE ? NONE : schemas.innerOf(q), set);
-            }
-            return rowOf(s, p, q, n);
-        }
-
-        private int unpush(int mark) {
-            pool.unstack(mark);
-            return NONE;
         }
 
         /** Notes how many nodes a candidate has, and tells whether it has those that are wanted. */
@@ -2930,8 +2902,7 @@ public final class ShapeLang {
             againstCount = 0;
             for (int i = 0; i < leadCount[2]; i++) {
                 int q = part(2, i);
-                boolean alike = schemas.kindOf(q) == schemas.kindOf(p) && (schemas.kindOf(p) != TAGGED || schemas.lowOf(q) == schemas.lowOf(p));
-                if (alike && againstCount < AGAINST) {
+                if (isAlike(p, q) && againstCount < AGAINST) {
                     against[againstCount] = q;
                     againstCount++;
                 }
@@ -2958,6 +2929,10 @@ public final class ShapeLang {
         private int rowOf(int s, int p, int q, int n) {
             int lowest = q == NONE ? schemas.lowOf(p) : Math.max(schemas.lowOf(p), schemas.lowOf(q));
             int highest = q == NONE ? schemas.highOf(p) : Math.min(schemas.highOf(p), schemas.highOf(q));
+            avoidInner();
+            for (int set = 0; set < 1 << againstCount; set++) {
+                cell[0][set] = valueOf(schemas.innerOf(p), q == NONE ? NONE : schemas.innerOf(q), set);
+            }
             int best = FAR;
             int bestSize = 0;
             for (int size = 0; size <= highest && size <= MOST_ITEMS; size++) {
@@ -3014,8 +2989,8 @@ public final class ShapeLang {
             int best = NONE;
             for (int part = 0; part <= set; part++) {
                 boolean fits = (part & ~set) == 0 && cell[row][part] != NONE;
-                if (fits && costOf(cell[row][part]) * scale + extra + sum[rest][set & ~part] == wanted) {
-                    int first = best == NONE ? -1 : pool.order(cell[row][part], cell[row][best]);
+                if (fits && pool.nodesOf(cell[row][part]) * scale + extra + sum[rest][set & ~part] == wanted) {
+                    int first = best == NONE ? -1 : pool.order(cell[row][part], cell[row][best], 0);
                     boolean more = first == 0 && Integer.bitCount(part) > Integer.bitCount(best);
                     best = first < 0 || more ? part : best;
                 }
@@ -3030,8 +3005,12 @@ public final class ShapeLang {
                 return NONE;
             }
             int set = weighFields();
-            for (int i = 0; i < fieldCount; i++) {
-                fillField(i);
+            for (int i = 0; i < fieldCount && i < MOST_ITEMS; i++) {
+                avoidField(i);
+                for (int part = 0; part < 1 << againstCount; part++) {
+                    boolean can = (part & ~field[CAN][i]) == 0;
+                    cell[i][part] = can ? valueOf(field[SHAPE][i], field[OTHER][i], part) : NONE;
+                }
             }
             sumFields();
             int nodes = sum[0][set] / 16 + 1;
@@ -3100,12 +3079,9 @@ public final class ShapeLang {
             return required;
         }
 
-        private void fillField(int i) {
-            for (int j = 0; j < againstCount; j++) {
+        private void avoidField(int i) {
+            for (int j = 0; j < againstCount && j < AGAINST && i >= 0 && i < MOST_ITEMS; j++) {
                 avoided[j] = schemas.shapeNamed(against[j], field[NAME][i]);
-            }
-            for (int set = 0; set < 1 << againstCount; set++) {
-                cell[i][set] = (set & ~field[CAN][i]) == 0 ? valueOf(field[SHAPE][i], field[OTHER][i], set) : NONE;
             }
         }
 
@@ -3368,12 +3344,12 @@ public final class ShapeLang {
         private final int[] upWay = new int[VERSIONS + 1];
         private final int[] downWay = new int[VERSIONS + 1];
         private final boolean[] known = new boolean[DEFAULTS];
-        /** Of the change that values go over: its version, the versions ahead of and behind it, and its record. */
+        /** Of the change that values go over: its version, the versions ahead of and behind it, and its records there. */
         private Version change;
         private int older;
         private int newer;
-        private int source;
-        private int changedPart;
+        private int oldRecord;
+        private int newRecord;
         private boolean ahead;
         /** Where the sum that is reckoned is being read, and the record whose fields it names. */
         private int at;
@@ -3467,19 +3443,18 @@ public final class ShapeLang {
             return clash;
         }
 
-        /** Makes the change of a version once more, of another parent; tells whether it is not refused. */
-        boolean repeat(int v, int newParent, int begun) {
+        /** The change of a version, to be read and made once more, of another parent. */
+        Version retold(int v, int newParent, int begun) {
             Version one = version(v);
             Version again = version(begun);
             again.come(newParent, one.kind, one.definition, one.factor, one.text);
-            reader.readChange(again);
-            return apply(begun);
+            return again;
         }
 
         // -- changing a schema
 
         /** Builds the schema of a version by its change, which was read; tells whether it is not refused. */
-        boolean apply(int begun) {
+        boolean make(int begun) {
             Version made = version(begun);
             int record = recordIn(made.parent, made.definition);
             if (record == NONE || made.toldCount > MOST_FIELDS || !isAllowed(made, record)) {
@@ -3487,7 +3462,27 @@ public final class ShapeLang {
             }
             tellChanged(made, record);
             reader.readSchema(work, begun);
-            return reader.faultOf() == NONE && findDefaults(made, begun);
+            boolean stands = reader.faultOf() == NONE;
+            int newRecord = stands ? recordIn(begun, made.definition) : NONE;
+            for (int i = 0; i < defaultsOf(made) && stands; i++) {
+                int by = made.kind == DROP || made.kind == RELAX ? made.parent : begun;
+                int named = made.kind == DROP || made.kind == RELAX ? record : newRecord;
+                int shape = schemas.shapeNamed(named, made.nameAt(i));
+                solver.askLeast(shape, by);
+                stands = takeDefault(made, begun, i, solver.solve(1), shape, by) && namesFields(made, i, named);
+            }
+            if (stands && made.kind == RETYPE) {
+                solver.askLeast(schemas.shapeNamed(record, made.nameAt(0)), made.parent);
+                made.oldLeast = pool.keep(DEFAULT_REGION + begun * DEFAULTS + DEFAULTS - 1, solver.solve(1));
+                stands = made.oldLeast != NONE;
+            }
+            return stands && (made.kind != ADD || !isRing(made));
+        }
+
+        /** How many fields of a change need a default, or the least value of their shape. */
+        private static int defaultsOf(Version made) {
+            boolean one = made.kind == DROP || made.kind == RETYPE || made.kind == RELAX || made.kind == REQUIRE;
+            return made.kind == ADD ? made.names() : one ? 1 : 0;
         }
 
         /** The { } that is the shape of a definition; NONE if that is not one alone. */
@@ -3552,68 +3547,57 @@ public final class ShapeLang {
                     tellNewFields(made, record);
                     work.add('}');
                 } else {
-                    schemas.tellShape(schemas.shapeAt(made.parent, d), work);
+                    schemas.tellShape(schemas.shapeAt(made.parent, d), work, 0);
                 }
                 work.add(';');
             }
         }
 
         private void tellChangedField(Version made, int record, int f) {
-            boolean first = schemas.nameOfField(f) == made.nameAt(0);
+            boolean first = made.kind != ADD && schemas.nameOfField(f) == made.nameAt(0);
             boolean second = schemas.nameOfField(f) == made.nameAt(1);
             boolean goes = made.kind == DROP || made.kind == SPLIT || made.kind == JOIN || made.kind == MOVE;
-            if (first && goes && made.toldCount > 0 || second && made.kind == JOIN) {
+            if (first && goes || second && made.kind == JOIN) {
                 return;
             }
             work.addComma('{');
-            if (second && made.kind == MOVE) {
-                tellName(f, f);
-                tellInside(recordInside(f), NONE, schemas.fieldNamed(record, made.nameAt(0)));
-            } else if (!first || made.kind == ADD || goes) {
-                tellWhole(f);
-            } else {
-                tellFirst(made, f);
-            }
-        }
-
-        private void tellFirst(Version made, int f) {
-            switch (made.kind) {
+            boolean changes = first || second && made.kind == MOVE;
+            switch (changes ? made.kind : NONE) {
                 case RENAME:
                     Schemas.tellFieldName(made.nameAt(1), schemas.mayMiss(f), work);
-                    schemas.tellShape(schemas.shapeOfField(f), work);
+                    schemas.tellShape(schemas.shapeOfField(f), work, 0);
+                    break;
+                case MOVE:
+                    Schemas.tellFieldName(schemas.nameOfField(f), false, work);
+                    tellInside(recordInside(f), NONE, schemas.fieldNamed(record, made.nameAt(0)));
                     break;
                 case LIFT:
-                    tellName(f, f);
+                    Schemas.tellFieldName(schemas.nameOfField(f), false, work);
                     tellInside(recordInside(f), schemas.fieldNamed(recordInside(f), made.nameAt(1)), NONE);
                     break;
                 case RETYPE:
                     made.tellField(0, schemas.mayMiss(f), work);
                     break;
                 case WRAP:
-                    tellName(f, f);
+                    Schemas.tellFieldName(schemas.nameOfField(f), schemas.mayMiss(f), work);
                     work.addLetters(made.tag, true);
                     work.add('(');
-                    schemas.tellShape(schemas.shapeOfField(f), work);
+                    schemas.tellShape(schemas.shapeOfField(f), work, 0);
                     work.add(')');
                     break;
                 case UNWRAP:
-                    tellName(f, f);
-                    schemas.tellShape(schemas.innerOf(schemas.onlyPart(schemas.shapeOfField(f), TAGGED)), work);
+                    Schemas.tellFieldName(schemas.nameOfField(f), schemas.mayMiss(f), work);
+                    schemas.tellShape(schemas.innerOf(schemas.onlyPart(schemas.shapeOfField(f), TAGGED)), work, 0);
+                    break;
+                case RELAX:
+                case REQUIRE:
+                    Schemas.tellFieldName(schemas.nameOfField(f), made.kind == RELAX, work);
+                    schemas.tellShape(schemas.shapeOfField(f), work, 0);
                     break;
                 default:
-                    Schemas.tellFieldName(schemas.nameOfField(f), made.kind == RELAX, work);
-                    schemas.tellShape(schemas.shapeOfField(f), work);
+                    schemas.tellField(f, work, 0);
                     break;
             }
-        }
-
-        private void tellName(int f, int like) {
-            Schemas.tellFieldName(schemas.nameOfField(f), schemas.mayMiss(like), work);
-        }
-
-        private void tellWhole(int f) {
-            tellName(f, f);
-            schemas.tellShape(schemas.shapeOfField(f), work);
         }
 
         /** A { } without one field and with another one. */
@@ -3622,12 +3606,12 @@ public final class ShapeLang {
             for (int f = schemas.firstField(record); f < schemas.endField(record); f++) {
                 if (f != without) {
                     work.addComma('{');
-                    tellWhole(f);
+                    schemas.tellField(f, work, 0);
                 }
             }
             if (with != NONE) {
                 work.addComma('{');
-                tellWhole(with);
+                schemas.tellField(with, work, 0);
             }
             work.add('}');
         }
@@ -3653,7 +3637,7 @@ public final class ShapeLang {
                     break;
                 case LIFT:
                     work.addComma('{');
-                    tellWhole(schemas.fieldNamed(recordInside(f), made.nameAt(1)));
+                    schemas.tellField(schemas.fieldNamed(recordInside(f), made.nameAt(1)), work, 0);
                     break;
                 default:
                     break;
@@ -3668,35 +3652,8 @@ public final class ShapeLang {
 
         // -- defaults
 
-        /** Looks at the defaults of a change and keeps the values that they need; false if the change is refused. */
-        private boolean findDefaults(Version made, int begun) {
-            int oldRecord = recordIn(made.parent, made.definition);
-            int newRecord = recordIn(begun, made.definition);
-            int oldShape = schemas.shapeNamed(oldRecord, made.nameAt(0));
-            switch (made.kind) {
-                case ADD:
-                    boolean stands = true;
-                    for (int i = 0; i < made.names() && stands; i++) {
-                        stands = findDefault(made, begun, i, schemas.shapeNamed(newRecord, made.nameAt(i)), begun) && namesFields(made, i, newRecord);
-                    }
-                    return stands && !isRing(made);
-                case DROP:
-                    return findDefault(made, begun, 0, oldShape, made.parent) && namesFields(made, 0, oldRecord);
-                case RELAX:
-                    return findDefault(made, begun, 0, oldShape, made.parent);
-                case RETYPE:
-                    int least = solver.leastOf(oldShape, made.parent);
-                    made.oldLeast = pool.keep(DEFAULT_REGION + begun * DEFAULTS + DEFAULTS - 1, least);
-                    return least != NONE && findDefault(made, begun, 0, schemas.shapeNamed(newRecord, made.nameAt(0)), begun) && namesFields(made, 0, newRecord);
-                case REQUIRE:
-                    return findDefault(made, begun, 0, schemas.shapeNamed(newRecord, made.nameAt(0)), begun) && namesFields(made, 0, newRecord);
-                default:
-                    return true;
-            }
-        }
-
-        private boolean findDefault(Version made, int begun, int i, int shape, int by) {
-            int least = solver.leastOf(shape, by);
+        /** Keeps the value that a default needs: what was told, or the least one of the shape; false if the change is refused. */
+        private boolean takeDefault(Version made, int begun, int i, int least, int shape, int by) {
             int given = made.valueAt(i);
             boolean fits = given != NONE && schemas.holds(given, shape, by);
             if (least == NONE || given != NONE && !fits && made.kind != ADD) {
@@ -3745,9 +3702,9 @@ public final class ShapeLang {
         /** Of the fields of ADD that are still to be found, the first one by name that hangs on none of them; NONE if all do. */
         private int nextToFind(Version made) {
             int best = NONE;
-            for (int i = 0; i < made.names(); i++) {
+            for (int i = 0; i < made.names() && i < known.length; i++) {
                 boolean free = !known[i];
-                for (int k = 0; k < made.names() && free; k++) {
+                for (int k = 0; k < made.names() && k < known.length && free; k++) {
                     free = known[k] || !hangsOn(made, i, made.nameAt(k));
                 }
                 if (free && (best == NONE || made.nameAt(i) < made.nameAt(best))) {
@@ -3761,7 +3718,7 @@ public final class ShapeLang {
             Arrays.fill(known, false);
             for (int i = 0; i < made.names(); i++) {
                 int next = nextToFind(made);
-                if (next == NONE) {
+                if (next < 0 || next >= known.length) {
                     return true;
                 }
                 known[next] = true;
@@ -3777,12 +3734,12 @@ public final class ShapeLang {
             at = change.sumStart(i);
             named = record;
             long sum = Math.max(-MOST_NUMBER, Math.min(MOST_NUMBER, sumAt(0)));
-            int number = pool.number((int) sum);
-            return schemas.holds(number, shape, by) ? number : change.valueAt(i);
+            return schemas.hasNumber(shape, by, sum) ? pool.number((int) sum) : change.valueAt(i);
         }
 
         private int sign() {
-            return change.text.at(at);
+            Buf text = change.text;
+            return at >= 0 && at < text.count && at < text.bytes.length ? text.bytes[at] & 255 : NONE;
         }
 
         private long sumAt(int depth) {
@@ -3824,13 +3781,8 @@ public final class ShapeLang {
                 name = name * 27 + sign() - 'a' + 1;
                 at++;
             }
-            return name == 0 ? times * number : numberIn(named, name);
-        }
-
-        /** The number that a field of a record has; 0 if it is missing or no number. */
-        private long numberIn(int record, int name) {
-            int v = pool.field(record, name);
-            return pool.kindOf(v) == NUMBER ? pool.codeOf(v) : 0;
+            int v = name == 0 ? NONE : pool.field(named, name);
+            return name == 0 ? times * number : pool.kindOf(v) == NUMBER ? pool.codeOf(v) : 0;
         }
 
         // -- converting values
@@ -3844,28 +3796,28 @@ public final class ShapeLang {
             int up = wayDown(top, from, upWay);
             int down = wayDown(top, to, downWay);
             int carried = v;
-            for (int i = up - 1; i >= 0 && i < upWay.length; i--) {
-                carried = carryOver(carried, upWay[i], false);
-            }
-            for (int i = 0; i < down && i < downWay.length; i++) {
-                carried = carryOver(carried, downWay[i], true);
+            for (int i = 0; i < up + down && carried != NONE; i++) {
+                ahead = i >= up;
+                int begun = ahead ? step(downWay, i - up) : step(upWay, up - 1 - i);
+                change = version(begun);
+                newer = begun;
+                older = change.parent;
+                oldRecord = recordIn(older, change.definition);
+                newRecord = recordIn(newer, change.definition);
+                carried = pass(carried, schemas.shapeAt(ahead ? older : newer, 0), 0);
+                boolean fits = pool.nodesOf(carried) <= MOST_NODES && pool.aroundIn(carried) <= MOST_AROUND;
+                carried = fits ? carried : NONE;
             }
             return carried;
         }
 
-        private int carryOver(int v, int begun, boolean isAhead) {
-            change = version(begun);
-            newer = begun;
-            older = change.parent;
-            ahead = isAhead;
-            source = ahead ? older : newer;
-            changedPart = recordIn(source, change.definition);
-            int carried = v == NONE ? NONE : passAt(v, schemas.shapeAt(source, 0), 0);
-            return pool.nodesOf(carried) > MOST_NODES || pool.aroundIn(carried) > MOST_AROUND ? NONE : carried;
+        private static int step(int[] way, int i) {
+            return i >= 0 && i < way.length ? way[i] : NONE;
         }
 
-        private int passAt(int v, int shape, int depth) {
-            int p = schemas.partFor(v, shape, source);
+        /** A value as it is over the change, by a shape; NONE if there is no room for it. */
+        private int pass(int v, int shape, int depth) {
+            int p = schemas.partFor(v, shape, ahead ? older : newer, 0);
             if (p == NONE || depth > MOST_AROUND) {
                 return NONE;
             }
@@ -3876,17 +3828,13 @@ public final class ShapeLang {
             int mark = pool.stackMark();
             for (int i = 0; i < pool.sizeOf(v); i++) {
                 int inner = kind == RECORD ? schemas.shapeNamed(p, pool.labelOf(v, i)) : schemas.innerOf(p);
-                pool.push(pool.labelOf(v, i), passAt(pool.childOf(v, i), inner, depth + 1));
+                pool.push(pool.labelOf(v, i), pass(pool.childOf(v, i), inner, depth + 1));
             }
             int passed = pool.close(kind, pool.codeOf(v), mark);
-            if (p != changedPart || passed == NONE) {
+            if (p != (ahead ? oldRecord : newRecord) || passed == NONE) {
                 return passed;
             }
             return ahead ? forward(passed) : backward(passed);
-        }
-
-        private int fieldShape(int v, int name) {
-            return schemas.shapeNamed(recordIn(v, change.definition), name);
         }
 
         /** A record without a field, and with its value by another name, if it is there. */
@@ -3919,7 +3867,7 @@ public final class ShapeLang {
                 case LIFT:
                     return lifted(record, f, change.nameAt(1));
                 case RETYPE:
-                    int shape = fieldShape(newer, f);
+                    int shape = schemas.shapeNamed(newRecord, f);
                     boolean stays = v == NONE || schemas.holds(v, shape, newer);
                     return stays ? record : replaced(record, f, defaultFor(0, record, shape, newer));
                 case WRAP:
@@ -3927,7 +3875,7 @@ public final class ShapeLang {
                 case UNWRAP:
                     return v == NONE ? record : replaced(record, f, pool.childOf(v, 0));
                 case REQUIRE:
-                    return v != NONE ? record : pool.with(record, f, defaultFor(0, record, fieldShape(newer, f), newer));
+                    return v != NONE ? record : pool.with(record, f, defaultFor(0, record, schemas.shapeNamed(newRecord, f), newer));
                 default:
                     return record;
             }
@@ -3944,7 +3892,7 @@ public final class ShapeLang {
                     }
                     return left;
                 case DROP:
-                    return pool.with(record, f, defaultFor(0, record, fieldShape(older, f), older));
+                    return pool.with(record, f, defaultFor(0, record, schemas.shapeNamed(oldRecord, f), older));
                 case RENAME:
                     return renamed(record, change.nameAt(1), f);
                 case SPLIT:
@@ -3956,7 +3904,7 @@ public final class ShapeLang {
                 case LIFT:
                     return moved(record, change.nameAt(1), f);
                 case RETYPE:
-                    boolean stays = v == NONE || schemas.holds(v, fieldShape(older, f), older);
+                    boolean stays = v == NONE || schemas.holds(v, schemas.shapeNamed(oldRecord, f), older);
                     return stays ? record : replaced(record, f, change.oldLeast);
                 case WRAP:
                     return v == NONE ? record : replaced(record, f, pool.childOf(v, 0));
@@ -3974,10 +3922,10 @@ public final class ShapeLang {
             int with = record;
             for (int i = 0; i < change.names(); i++) {
                 int next = nextToFind(change);
-                if (next != NONE) {
+                if (next >= 0 && next < known.length) {
                     known[next] = true;
                     int name = change.nameAt(next);
-                    with = pool.with(with, name, defaultFor(next, with, fieldShape(newer, name), newer));
+                    with = pool.with(with, name, defaultFor(next, with, schemas.shapeNamed(newRecord, name), newer));
                 }
             }
             return with;
@@ -3985,19 +3933,19 @@ public final class ShapeLang {
 
         /** The number brought to the nearest one of the shape that a field has where the value comes to. */
         private int nearest(long number, int name) {
-            int p = schemas.onlyPart(fieldShape(ahead ? newer : older, name), NUMBER);
+            int p = schemas.onlyPart(schemas.shapeNamed(ahead ? newRecord : oldRecord, name), NUMBER);
             return pool.number((int) Math.max(schemas.lowOf(p), Math.min(schemas.highOf(p), number)));
         }
 
         private int split(int record, int f, int g, int h) {
-            long number = numberIn(record, f);
+            long number = pool.codeOf(pool.field(record, f));
             int n = Math.max(change.factor, 1);
             int rest = pool.without(record, f);
             return pool.with(pool.with(rest, g, nearest(number / n, g)), h, nearest(number % n, h));
         }
 
         private int joined(int record, int g, int h, int f) {
-            long number = numberIn(record, g) * change.factor + numberIn(record, h);
+            long number = pool.codeOf(pool.field(record, g)) * change.factor + pool.codeOf(pool.field(record, h));
             return pool.with(pool.without(pool.without(record, g), h), f, nearest(number, f));
         }
 
@@ -4024,39 +3972,34 @@ public final class ShapeLang {
 
         // -- losses
 
-        boolean losesForward(int begun) {
+        /** Whether a change may lose, forward or backward. */
+        boolean loses(int begun, boolean isAhead) {
             Version made = version(begun);
-            boolean retypes = made.kind == RETYPE;
-            return made.kind == DROP || made.kind == REQUIRE || retypes && losesType(made, made.parent, begun, begun);
-        }
-
-        boolean losesBackward(int begun) {
-            Version made = version(begun);
-            int oldRecord = recordIn(made.parent, made.definition);
-            int p = numbersOf(schemas.fieldNamed(oldRecord, made.nameAt(0)));
-            int q = numbersOf(schemas.fieldNamed(oldRecord, made.nameAt(1)));
+            int record = recordIn(made.parent, made.definition);
+            int p = numbersOf(schemas.fieldNamed(record, made.nameAt(0)));
+            int q = numbersOf(schemas.fieldNamed(record, made.nameAt(1)));
             int n = Math.max(made.factor, 1);
             switch (made.kind) {
+                case DROP:
+                case REQUIRE:
+                    return isAhead;
                 case ADD:
                 case RELAX:
-                    return true;
+                    return !isAhead;
                 case SPLIT:
-                    return schemas.lowOf(p) % n != 0 || schemas.highOf(p) % n != n - 1;
+                    return !isAhead && (schemas.lowOf(p) % n != 0 || schemas.highOf(p) % n != n - 1);
                 case JOIN:
-                    return schemas.lowOf(p) < schemas.highOf(p) && (schemas.lowOf(q) > 0 || schemas.highOf(q) < n - 1);
+                    return !isAhead && schemas.lowOf(p) < schemas.highOf(p) && (schemas.lowOf(q) > 0 || schemas.highOf(q) < n - 1);
                 case RETYPE:
-                    return losesType(made, begun, made.parent, made.parent);
+                    pool.free();
+                    int old = schemas.shapeNamed(record, made.nameAt(0));
+                    int fresh = schemas.shapeNamed(recordIn(begun, made.definition), made.nameAt(0));
+                    int by = isAhead ? begun : made.parent;
+                    solver.askApart(isAhead ? old : fresh, by, isAhead ? fresh : old, by);
+                    return solver.solve(1) != NONE;
                 default:
                     return false;
             }
-        }
-
-        /** Whether the shape of the field in a version is not part of that in another one, by the definitions of one. */
-        private boolean losesType(Version made, int from, int to, int by) {
-            pool.free();
-            int shape = schemas.shapeNamed(recordIn(from, made.definition), made.nameAt(0));
-            int other = schemas.shapeNamed(recordIn(to, made.definition), made.nameAt(0));
-            return solver.apart(shape, by, other, by) != NONE;
         }
     }
 
@@ -4169,7 +4112,7 @@ public final class ShapeLang {
             for (int i = 0; i < shapeCount && i < THREADS; i++) {
                 for (int p = Schemas.firstOf(shape[i]); p < Schemas.endOf(shape[i]) && 2 * count + 1 < told.length; p++) {
                     int from = work.size();
-                    schemas.tellShape(Schemas.alone(p), work);
+                    schemas.tellShape(Schemas.alone(p), work, 0);
                     if (isTold(work, count, from)) {
                         work.cut(from);
                     } else {
@@ -4391,12 +4334,10 @@ public final class ShapeLang {
                         to.addLetters(name[i], false);
                         break;
                     case ITEM_STEP:
-                        to.add('[');
-                        to.add(']');
+                        to.addWord("[]");
                         break;
                     case ENTRY_STEP:
-                        to.add('<');
-                        to.add('>');
+                        to.addWord("<>");
                         break;
                     default:
                         to.add('!');
@@ -4409,7 +4350,7 @@ public final class ShapeLang {
 
     /** Samples of shapes: what is inferred from them, the small ones, and how one is shrunk. */
     private static final class Samples {
-        private static final int STACK = 1024, SINGLES = 8, PAIRS = 1024, BIG = 1000000, MOST_SHRUNK = 20;
+        private static final int STACK = 1024, SINGLES = 8, PAIRS = 1024, BIG = 1000000;
 
         private final Pool pool;
         private final Schemas schemas;
@@ -4427,6 +4368,10 @@ public final class ShapeLang {
         /** How many such values were met, and which one is to be kept. */
         private int met;
         private int wanted;
+        /** Whether the values that come are the last ones, and where those begin that may be given up. */
+        private boolean last;
+        private int valueMark;
+        private int edgeMark;
         /** Small values with one node, and behind them those with two. */
         private final int[] small = new int[SINGLES + PAIRS];
         private int smalls;
@@ -4462,8 +4407,7 @@ public final class ShapeLang {
             text = to;
             text.wipe();
             partsTold = 0;
-            text.add('V');
-            text.add('=');
+            text.addWord("V=");
             boolean told = inferAt(0, sampleTop, 0);
             text.add(';');
             return told;
@@ -4483,7 +4427,7 @@ public final class ShapeLang {
                 return false;
             }
             if (texts + others == 0) {
-                Schemas.tellWord(text, 'n', 'o', 'n', 'e');
+                text.addWord("none");
                 return true;
             }
             int start = text.size();
@@ -4559,7 +4503,7 @@ public final class ShapeLang {
             long letters = nextLabel(from, to, TEXT, NONE);
             for (int i = 0; i < parts && letters != NONE; i++) {
                 bar(start);
-                Schemas.tellWord(text, 't', 'e', 'x', 't');
+                text.addWord("text");
                 boolean alone = parts == 1 && (letters == 0 || nextLabel(from, to, TEXT, letters) != NONE);
                 if (!alone) {
                     text.add('(');
@@ -4674,7 +4618,8 @@ public final class ShapeLang {
         }
 
         boolean isAimed(int v) {
-            return schemas.holds(v, shape, version) && (otherShape == NONE || !schemas.holds(v, otherShape, otherVersion));
+            boolean is = schemas.partFor(v, shape, version, 0) != NONE;
+            return is && (otherShape == NONE || schemas.partFor(v, otherShape, otherVersion, 0) == NONE);
         }
 
         // -- small values
@@ -4685,50 +4630,52 @@ public final class ShapeLang {
             wanted = place;
             smalls = 0;
             for (int n = 1; n <= nodes; n++) {
-                goThrough(n, n == nodes);
+                last = n == nodes;
+                valueMark = pool.valueMark();
+                edgeMark = pool.edgeMark();
+                if (n == 1) {
+                    goThroughSingles();
+                } else {
+                    goThroughLists(n);
+                    goThroughRecords(n);
+                    goThroughTagged(n);
+                    goThroughMaps(n);
+                }
             }
             return met;
         }
 
-        /** Goes through the small values with so many nodes, in their order. */
-        private void goThrough(int n, boolean last) {
-            if (n == 1) {
-                goThroughSingles(last);
-                return;
-            }
-            goThroughLists(n, last);
-            goThroughRecords(n, last);
-            goThroughTagged(n, last);
-            goThroughMaps(n, last);
-        }
-
-        private void come(int v, boolean last) {
+        /** A value comes in its order: it is noted for those that are built of it, or visited and given up. */
+        private void come(int v) {
             if (!last) {
                 if (smalls >= 0 && smalls < small.length) {
                     small[smalls] = v;
                     smalls++;
                 }
-            } else if (isAimed(v)) {
+                return;
+            }
+            if (isAimed(v)) {
                 if (met == wanted) {
                     pool.keep(BEST_REGION, v);
                 }
                 met++;
             }
+            pool.back(valueMark, edgeMark);
         }
 
         private int smallAt(int i) {
             return i >= 0 && i < smalls && i < small.length ? small[i] : NONE;
         }
 
-        private void goThroughSingles(boolean last) {
-            come(pool.number(0), last);
-            come(pool.number(1), last);
-            come(pool.number(-1), last);
-            come(pool.text(0), last);
-            come(pool.text(1), last);
-            come(pool.close(LIST, 0, pool.stackMark()), last);
-            come(pool.close(RECORD, 0, pool.stackMark()), last);
-            come(pool.close(MAP, 0, pool.stackMark()), last);
+        private void goThroughSingles() {
+            come(pool.number(0));
+            come(pool.number(1));
+            come(pool.number(-1));
+            come(pool.text(0));
+            come(pool.text(1));
+            come(pool.close(LIST, 0, pool.stackMark()));
+            come(pool.close(RECORD, 0, pool.stackMark()));
+            come(pool.close(MAP, 0, pool.stackMark()));
         }
 
         private int firstInner(int n) {
@@ -4739,87 +4686,74 @@ public final class ShapeLang {
             return n == 2 ? SINGLES : smalls;
         }
 
-        /** A value with one value in it, which ends with its visit if it is one of the last ones. */
-        private void comeWith(int kind, long code, long label, int inner, boolean last) {
-            int values = pool.valueMark();
-            int edges = pool.edgeMark();
+        private int around(int kind, long code, long label, int inner) {
+            int mark = pool.stackMark();
             pool.push(label, inner);
-            come(pool.close(kind, code, pool.stackMark() - 1), last);
-            if (last) {
-                pool.back(values, edges);
-            }
+            return pool.close(kind, code, mark);
         }
 
-        private void comeWithTwo(int kind, long label, int inner, long nextLabel, int next) {
-            int values = pool.valueMark();
-            int edges = pool.edgeMark();
+        private int aroundTwo(int kind, long label, int inner, long nextLabel, int next) {
+            int mark = pool.stackMark();
             pool.push(label, inner);
             pool.push(nextLabel, next);
-            come(pool.close(kind, 0, pool.stackMark() - 2), true);
-            pool.back(values, edges);
+            return pool.close(kind, 0, mark);
         }
 
-        private void goThroughLists(int n, boolean last) {
+        private void goThroughLists(int n) {
             int end = endInner(n);
             for (int i = firstInner(n); i < end; i++) {
-                comeWith(LIST, 0, 0, smallAt(i), last);
+                come(around(LIST, 0, 0, smallAt(i)));
             }
             for (int i = 0; i < SINGLES && n == 3; i++) {
                 for (int j = 0; j < SINGLES; j++) {
-                    comeWithTwo(LIST, 0, smallAt(i), 0, smallAt(j));
+                    come(aroundTwo(LIST, 0, smallAt(i), 0, smallAt(j)));
                 }
             }
         }
 
-        private void goThroughRecords(int n, boolean last) {
+        private void goThroughRecords(int n) {
             int end = endInner(n);
             int name = nextName(0);
             for (int k = 0; k < MOST_PARTS && name != 0; k++) {
                 for (int i = firstInner(n); i < end; i++) {
-                    comeWith(RECORD, 0, name, smallAt(i), last);
+                    come(around(RECORD, 0, name, smallAt(i)));
                 }
                 name = nextName(name);
             }
             name = nextName(0);
             for (int k = 0; k < MOST_PARTS && name != 0 && n == 3; k++) {
                 for (int i = 0; i < SINGLES; i++) {
-                    goThroughSecondFields(name, smallAt(i));
+                    int second = nextName(name);
+                    for (int j = 0; j < MOST_PARTS * SINGLES && second != 0; j++) {
+                        come(aroundTwo(RECORD, name, smallAt(i), second, smallAt(j % SINGLES)));
+                        second = j % SINGLES == SINGLES - 1 ? nextName(second) : second;
+                    }
                 }
                 name = nextName(name);
             }
         }
 
-        private void goThroughSecondFields(int first, int inner) {
-            int name = nextName(first);
-            for (int k = 0; k < MOST_PARTS && name != 0; k++) {
-                for (int j = 0; j < SINGLES; j++) {
-                    comeWithTwo(RECORD, first, inner, name, smallAt(j));
-                }
-                name = nextName(name);
-            }
-        }
-
-        private void goThroughTagged(int n, boolean last) {
+        private void goThroughTagged(int n) {
             int end = endInner(n);
             int tag = nextTag(0);
             for (int k = 0; k < MOST_PARTS && tag != 0; k++) {
                 for (int i = firstInner(n); i < end; i++) {
-                    comeWith(TAGGED, tag, 0, smallAt(i), last);
+                    come(around(TAGGED, tag, 0, smallAt(i)));
                 }
                 tag = nextTag(tag);
             }
         }
 
-        private void goThroughMaps(int n, boolean last) {
+        private void goThroughMaps(int n) {
             int end = endInner(n);
             for (int key = 1; key <= 2; key++) {
                 for (int i = firstInner(n); i < end; i++) {
-                    comeWith(MAP, 0, key, smallAt(i), last);
+                    come(around(MAP, 0, key, smallAt(i)));
                 }
             }
             for (int i = 0; i < SINGLES && n == 3; i++) {
                 for (int j = 0; j < SINGLES; j++) {
-                    comeWithTwo(MAP, 1, smallAt(i), 2, smallAt(j));
+                    come(aroundTwo(MAP, 1, smallAt(i), 2, smallAt(j)));
                 }
             }
         }
@@ -4847,19 +4781,8 @@ public final class ShapeLang {
 
         // -- shrinking
 
-        /** Shrinks the value in the spare region; returns how often it became another one. */
-        int shrinkSpare() {
-            int times = 0;
-            for (int i = 0; i < MOST_SHRUNK && findSmaller(); i++) {
-                pool.free();
-                pool.keep(SPARE_REGION, BEST_REGION * MOST_NODES);
-                times++;
-            }
-            return times;
-        }
-
         /** Puts the first one by order of those smaller ones that are aimed at into its region; false if there is none. */
-        private boolean findSmaller() {
+        boolean findSmaller() {
             int root = SPARE_REGION * MOST_NODES;
             int count = Math.min(pool.nodesOf(root), MOST_NODES);
             for (int i = 0; i < count; i++) {
@@ -4874,7 +4797,7 @@ public final class ShapeLang {
             boolean found = false;
             for (int i = 0; i < count; i++) {
                 int v = root + i;
-                found = i > 0 && tryValue(v, found) || found;
+                found = i > 0 ? tryInstead(0, v, found) : found;
                 if (pool.kindOf(v) == NUMBER) {
                     found = tryNumbers(i, found);
                 } else if (pool.kindOf(v) == TEXT) {
@@ -4886,17 +4809,7 @@ public final class ShapeLang {
             return found;
         }
 
-        /** Keeps a value if it is aimed at and the first one so far; tells whether there is one now. */
-        private boolean tryValue(int v, boolean found) {
-            boolean first = !found || pool.order(v, BEST_REGION * MOST_NODES) < 0;
-            if (!first || v == NONE || !isAimed(v)) {
-                return found;
-            }
-            pool.keep(BEST_REGION, v);
-            return true;
-        }
-
-        /** Tries the whole value with another one at the place of a node. */
+        /** Keeps the whole value with another one at the place of a node, if it is aimed at and the first one so far. */
         private boolean tryInstead(int i, int v, boolean found) {
             int root = SPARE_REGION * MOST_NODES;
             int at = i;
@@ -4905,9 +4818,13 @@ public final class ShapeLang {
                 whole = pool.exchange(root + above[at], placeAbove[at], whole);
                 at = above[at];
             }
-            boolean now = tryValue(whole, found);
+            boolean first = !found || pool.order(whole, BEST_REGION * MOST_NODES, 0) < 0;
+            boolean better = first && whole != NONE && isAimed(whole);
+            if (better) {
+                pool.keep(BEST_REGION, whole);
+            }
             pool.free();
-            return now;
+            return found || better;
         }
 
         private boolean tryNumbers(int i, boolean found) {
