@@ -805,24 +805,28 @@ public final class ShapeLang {
         private int top = KEPT;
         private int edgeTop = KEPT;
         private int stackTop;
+        private int heldTop = KEPT;
+        private int heldEdgeTop = KEPT;
 
+        /** Gives up all values but those of the regions. */
         void free() {
-            back(KEPT, KEPT);
-        }
-
-        /** Gives up all values that were made since the marks. */
-        void back(int valueMark, int edgeMark) {
-            top = Math.max(valueMark, KEPT);
-            edgeTop = Math.max(edgeMark, KEPT);
+            top = KEPT;
+            edgeTop = KEPT;
             stackTop = 0;
+            hold();
         }
 
-        int valueMark() {
-            return top;
+        /** The values that there are now are not given up by letting go. */
+        void hold() {
+            heldTop = top;
+            heldEdgeTop = edgeTop;
         }
 
-        int edgeMark() {
-            return edgeTop;
+        /** Gives up all values since those that are held. */
+        void letGo() {
+            top = heldTop;
+            edgeTop = heldEdgeTop;
+            stackTop = 0;
         }
 
         int kindOf(int v) {
@@ -4368,13 +4372,13 @@ public final class ShapeLang {
         /** How many such values were met, and which one is to be kept. */
         private int met;
         private int wanted;
-        /** Whether the values that come are the last ones, and where those begin that may be given up. */
+        /** Whether the values that come are those that are aimed at, and not those of which they are built. */
         private boolean last;
-        private int valueMark;
-        private int edgeMark;
         /** Small values with one node, and behind them those with two. */
         private final int[] small = new int[SINGLES + PAIRS];
         private int smalls;
+        private final int[] led = new int[MOST_LED * MOST_LED];
+        private int ledCount;
         /** For each node of the value that is shrunk: the one that it is in, and its place there. */
         private final int[] above = new int[MOST_NODES];
         private final int[] placeAbove = new int[MOST_NODES];
@@ -4629,20 +4633,42 @@ public final class ShapeLang {
             met = 0;
             wanted = place;
             smalls = 0;
+            ledCount = schemas.leads(shape, version, led, 0);
             for (int n = 1; n <= nodes; n++) {
                 last = n == nodes;
-                valueMark = pool.valueMark();
-                edgeMark = pool.edgeMark();
+                pool.hold();
                 if (n == 1) {
                     goThroughSingles();
-                } else {
+                    continue;
+                }
+                if (isLookedAt(LIST)) {
                     goThroughLists(n);
-                    goThroughRecords(n);
-                    goThroughTagged(n);
+                }
+                goThroughRecords(n);
+                goThroughTagged(n);
+                if (isLookedAt(MAP)) {
                     goThroughMaps(n);
                 }
             }
             return met;
+        }
+
+        /** How many parts there are that a value which comes could be of: the last ones are of those to which the shape leads. */
+        private int partsToLookAt() {
+            return last ? ledCount : schemas.endOfShelf(version) - version * MOST_PARTS;
+        }
+
+        private int partToLookAt(int i) {
+            return !last ? version * MOST_PARTS + i : i >= 0 && i < led.length ? led[i] : NONE;
+        }
+
+        private boolean isLookedAt(int kind) {
+            for (int i = 0; i < partsToLookAt(); i++) {
+                if (schemas.kindOf(partToLookAt(i)) == kind) {
+                    return true;
+                }
+            }
+            return false;
         }
 
         /** A value comes in its order: it is noted for those that are built of it, or visited and given up. */
@@ -4660,7 +4686,7 @@ public final class ShapeLang {
                 }
                 met++;
             }
-            pool.back(valueMark, edgeMark);
+            pool.letGo();
         }
 
         private int smallAt(int i) {
@@ -4758,10 +4784,11 @@ public final class ShapeLang {
             }
         }
 
-        /** The first name of a field of the schema behind one; 0 if there is none. */
+        /** The first name of a field behind one; 0 if there is none. */
         private int nextName(int behind) {
             int next = 0;
-            for (int p = version * MOST_PARTS; p < schemas.endOfShelf(version); p++) {
+            for (int i = 0; i < partsToLookAt(); i++) {
+                int p = partToLookAt(i);
                 for (int f = schemas.firstField(p); f < schemas.endField(p); f++) {
                     int name = schemas.nameOfField(f);
                     next = name > behind && (next == 0 || name < next) ? name : next;
@@ -4772,8 +4799,8 @@ public final class ShapeLang {
 
         private int nextTag(int behind) {
             int next = 0;
-            for (int p = version * MOST_PARTS; p < schemas.endOfShelf(version); p++) {
-                int tag = schemas.kindOf(p) == TAGGED ? schemas.lowOf(p) : 0;
+            for (int i = 0; i < partsToLookAt(); i++) {
+                int tag = schemas.kindOf(partToLookAt(i)) == TAGGED ? schemas.lowOf(partToLookAt(i)) : 0;
                 next = tag > behind && (next == 0 || tag < next) ? tag : next;
             }
             return next;
