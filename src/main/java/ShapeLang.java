@@ -32,8 +32,7 @@ public final class ShapeLang {
     private final Schemas schemas = new Schemas(pool);
     private final Reader reader = new Reader(pool, schemas);
     private final Solver solver = new Solver(pool, schemas);
-    private final Version[] versions = new Version[VERSIONS + 1];
-    private final Changes changes;
+    private final Changes changes = new Changes(pool, schemas, reader, solver);
     private final Forms forms = new Forms(pool, schemas);
     private final Paths paths = new Paths(pool, schemas);
     private final Samples samples = new Samples(pool, schemas);
@@ -46,10 +45,6 @@ public final class ShapeLang {
     private int lastFault = NONE;
 
     public ShapeLang() {
-        for (int i = 0; i < versions.length; i++) {
-            versions[i] = new Version();
-        }
-        changes = new Changes(pool, schemas, reader, solver, versions);
     }
 
     // ---- the tape and the out
@@ -718,7 +713,7 @@ public final class ShapeLang {
                 add(0);
             }
             if (count > 0 && count <= bytes.length && bit != 0) {
-                bytes[count - 1] |= (byte) (128 >> (place & 7));
+                bytes[count - 1] = (byte) (bytes[count - 1] | 128 >> (place & 7));
             }
         }
 
@@ -884,10 +879,6 @@ public final class ShapeLang {
 
         int stackMark() {
             return stackTop;
-        }
-
-        void unstack(int mark) {
-            stackTop = mark >= 0 && mark < STACK ? mark : 0;
         }
 
         void push(long name, int v) {
@@ -1510,7 +1501,8 @@ public final class ShapeLang {
                 int more = d == NONE ? 1 : d >= 0 && d < NAMES ? leadCount[d] : 0;
                 for (int i = 0; i < more && i < MOST_LED; i++) {
                     int q = d == NONE ? p : lead[d * MOST_LED + i];
-                    has |= q >= 0 && q < ROOM && kind[q] == NUMBER && number >= low[q] && number <= high[q];
+                    boolean in = q >= 0 && q < ROOM && kind[q] == NUMBER && number >= low[q] && number <= high[q];
+                    has = has || in;
                 }
             }
             return has;
@@ -1866,7 +1858,7 @@ public final class ShapeLang {
         int readValueText(Buf told) {
             open(told, false);
             int value = readValue();
-            odd |= pool.nodesOf(value) > MOST_NODES;
+            odd = odd || pool.nodesOf(value) > MOST_NODES;
             finish();
             return value;
         }
@@ -1966,7 +1958,7 @@ public final class ShapeLang {
             expect('=');
             if (peek() != '(') {
                 int value = readValue();
-                odd |= pool.nodesOf(value) > MOST_NODES;
+                odd = odd || pool.nodesOf(value) > MOST_NODES;
                 version.tellDefault(value, NONE, NONE);
                 return;
             }
@@ -2256,7 +2248,7 @@ public final class ShapeLang {
                 boolean loose = false;
                 for (int i = 0; i <= text.size() && (i == 0 || isItem(peek())); i++) {
                     behind += loose ? 1 : 0;
-                    loose |= readItem();
+                    loose = readItem() || loose;
                     count++;
                 }
                 closeBracket(')');
@@ -2542,8 +2534,8 @@ public final class ShapeLang {
             for (int p = 0; p < end[2] && p < PATTERNS; p++) {
                 int places = schemas.stepPlaces(pattern[p], placesIn(row, at * WIDE, p), letter);
                 addFresh(p, places);
-                first |= places != 0 && p < end[0];
-                second |= places != 0 && p >= end[0] && p < end[1];
+                first = first || places != 0 && p < end[0];
+                second = second || places != 0 && p >= end[0] && p < end[1];
             }
             return first && second;
         }
@@ -3250,10 +3242,10 @@ public final class ShapeLang {
         private long takeLetters() {
             int many = takeBits(TEXT_BITS);
             long letters = 0;
-            bad |= many > 8;
+            bad = bad || many > 8;
             for (int i = 0; i < many && !bad; i++) {
                 int letter = takeBits(LETTER_BITS);
-                bad |= letter >= LETTERS;
+                bad = bad || letter >= LETTERS;
                 letters = letters * 27 + letter + 1;
             }
             return letters;
@@ -3263,9 +3255,9 @@ public final class ShapeLang {
         private int takeShape(int shape, int depth, int links) {
             int first = Schemas.firstOf(shape);
             int parts = Schemas.endOf(shape) - first;
-            bad |= depth > MOST_AROUND || links > MOST_DEFINITIONS || made > MOST_NODES;
+            bad = bad || depth > MOST_AROUND || links > MOST_DEFINITIONS || made > MOST_NODES;
             int place = bad ? 0 : takeBits(bitsFor(parts - 1));
-            bad |= place >= parts;
+            bad = bad || place >= parts;
             if (bad) {
                 return NONE;
             }
@@ -3288,7 +3280,7 @@ public final class ShapeLang {
                     return pool.number(takeUpTo(p));
                 case TEXT:
                     int v = pool.text(takeLetters());
-                    bad |= !schemas.holds(v, Schemas.alone(p), version);
+                    bad = bad || !schemas.holds(v, Schemas.alone(p), version);
                     return v;
                 case RECORD:
                     return takeRecord(p, depth);
@@ -3307,7 +3299,7 @@ public final class ShapeLang {
         /** A number from the first INT of a part on, not above the second one. */
         private int takeUpTo(int p) {
             int number = takeBits(bitsFor(schemas.highOf(p) - schemas.lowOf(p))) + schemas.lowOf(p);
-            bad |= number > schemas.highOf(p);
+            bad = bad || number > schemas.highOf(p);
             return number;
         }
 
@@ -3328,7 +3320,7 @@ public final class ShapeLang {
             long before = NONE;
             for (int i = 0; i < size && !bad; i++) {
                 long label = kind == MAP ? takeLetters() : 0;
-                bad |= kind == MAP && label <= before;
+                bad = bad || kind == MAP && label <= before;
                 before = label;
                 pool.push(label, takeShape(schemas.innerOf(p), depth + 1, 0));
             }
@@ -3342,7 +3334,7 @@ public final class ShapeLang {
         private final Schemas schemas;
         private final Reader reader;
         private final Solver solver;
-        private final Version[] versions;
+        private final Version[] versions = new Version[VERSIONS + 1];
         private final Version none = new Version();
         private final Buf work = new Buf(4096);
         private final int[] upWay = new int[VERSIONS + 1];
@@ -3359,13 +3351,15 @@ public final class ShapeLang {
         private int at;
         private int named;
 
-        Changes(Pool values, Schemas shapes, Reader texts, Solver solving, Version[] all) {
+        Changes(Pool values, Schemas shapes, Reader texts, Solver solving) {
             pool = values;
             schemas = shapes;
             reader = texts;
             solver = solving;
-            versions = all;
             change = none;
+            for (int i = 0; i < versions.length; i++) {
+                versions[i] = new Version();
+            }
         }
 
         /** A row of bytes for texts that are wanted only within a call. */
@@ -3441,7 +3435,7 @@ public final class ShapeLang {
             for (int i = 0; i < count && i < way.length && !isAmong(v, way, count); i++) {
                 Version other = version(way[i]);
                 for (int k = 0; k < one.names() && one.definition == other.definition; k++) {
-                    clash |= other.tells(one.nameAt(k));
+                    clash = clash || other.tells(one.nameAt(k));
                 }
             }
             return clash;
@@ -3718,8 +3712,14 @@ public final class ShapeLang {
             return best;
         }
 
+        private void forgetAll() {
+            for (int i = 0; i < known.length; i++) {
+                known[i] = false;
+            }
+        }
+
         private boolean isRing(Version made) {
-            Arrays.fill(known, false);
+            forgetAll();
             for (int i = 0; i < made.names(); i++) {
                 int next = nextToFind(made);
                 if (next < 0 || next >= known.length) {
@@ -3922,7 +3922,7 @@ public final class ShapeLang {
         }
 
         private int added(int record) {
-            Arrays.fill(known, false);
+            forgetAll();
             int with = record;
             for (int i = 0; i < change.names(); i++) {
                 int next = nextToFind(change);
@@ -4559,7 +4559,7 @@ public final class ShapeLang {
                 boolean may = false;
                 for (int k = from; k < to; k++) {
                     int v = pool.kindOf(sampleAt(k)) == RECORD ? pool.field(sampleAt(k), field) : NONE;
-                    may |= pool.kindOf(sampleAt(k)) == RECORD && v == NONE;
+                    may = may || pool.kindOf(sampleAt(k)) == RECORD && v == NONE;
                     if (v != NONE) {
                         addSample(v);
                     }
