@@ -784,7 +784,7 @@ public final class ShapeLang {
      */
     private static final class Pool {
         private static final int KEPT = (DEFAULT_REGION + (VERSIONS + 1) * DEFAULTS) * MOST_NODES;
-        private static final int ROOM = KEPT + 14000, STACK = 1024;
+        private static final int ROOM = KEPT + 10000, EDGES = KEPT + 24000, STACK = 1024;
 
         private final int[] kind = new int[ROOM];
         private final int[] nodes = new int[ROOM];
@@ -792,14 +792,15 @@ public final class ShapeLang {
         private final long[] code = new long[ROOM];
         private final int[] start = new int[ROOM];
         private final int[] size = new int[ROOM];
-        private final long[] label = new long[ROOM];
-        private final int[] child = new int[ROOM];
+        private final long[] label = new long[EDGES];
+        private final int[] child = new int[EDGES];
         private final long[] stackLabel = new long[STACK];
         private final int[] stackValue = new int[STACK];
         private final int[] queue = new int[MOST_NODES];
         private int top = KEPT;
         private int edgeTop = KEPT;
         private int stackTop;
+        /** Where the values begin that are given up by letting go. */
         private int heldTop = KEPT;
         private int heldEdgeTop = KEPT;
 
@@ -848,20 +849,20 @@ public final class ShapeLang {
 
         int childOf(int v, int i) {
             int e = v >= 0 && v < ROOM && i >= 0 && i < size[v] ? start[v] + i : NONE;
-            return e >= 0 && e < ROOM ? child[e] : NONE;
+            return e >= 0 && e < EDGES ? child[e] : NONE;
         }
 
         /** The name of a field, or the key of an entry. */
         long labelOf(int v, int i) {
             int e = v >= 0 && v < ROOM && i >= 0 && i < size[v] ? start[v] + i : NONE;
-            return e >= 0 && e < ROOM ? label[e] : 0;
+            return e >= 0 && e < EDGES ? label[e] : 0;
         }
 
         /** The value of a field of a record; NONE if it is missing. */
         int field(int v, long name) {
             int first = v >= 0 && v < ROOM ? start[v] : 0;
             int count = v >= 0 && v < ROOM ? size[v] : 0;
-            for (int e = first; e < first + count && e >= 0 && e < ROOM; e++) {
+            for (int e = first; e < first + count && e >= 0 && e < EDGES; e++) {
                 if (label[e] == name) {
                     return child[e];
                 }
@@ -892,7 +893,7 @@ public final class ShapeLang {
         /** A value of what was pushed since a mark; NONE if there is no room or something pushed is none. */
         int close(int newKind, long newCode, int mark) {
             int count = stackTop - mark;
-            if (mark < 0 || count < 0 || top < 0 || top >= ROOM || edgeTop < 0 || edgeTop + count > ROOM) {
+            if (mark < 0 || count < 0 || top < 0 || top >= ROOM || edgeTop < 0 || edgeTop + count > EDGES) {
                 return NONE;
             }
             stackTop = mark;
@@ -964,7 +965,7 @@ public final class ShapeLang {
         int keep(int region, int v) {
             int base = region * MOST_NODES;
             int count = nodesOf(v);
-            boolean fits = count > 0 && count <= MOST_NODES && top + count <= ROOM && edgeTop + count <= ROOM;
+            boolean fits = count > 0 && count <= MOST_NODES && top + count <= ROOM && edgeTop + count <= EDGES;
             if (!fits || base < 0 || base + MOST_NODES > KEPT) {
                 return NONE;
             }
@@ -991,7 +992,7 @@ public final class ShapeLang {
                 int newStart = edgeBase + used - 1;
                 start[to] = newStart;
                 for (int k = 0; k < count && used < queue.length; k++) {
-                    if (oldStart + k < 0 || oldStart + k >= ROOM || newStart + k < 0 || newStart + k >= ROOM) {
+                    if (oldStart + k < 0 || oldStart + k >= EDGES || newStart + k < 0 || newStart + k >= EDGES) {
                         return NONE;
                     }
                     label[newStart + k] = label[oldStart + k];
@@ -1025,7 +1026,7 @@ public final class ShapeLang {
             for (int i = 0; i < size[v] && first == 0; i++) {
                 int e = start[v] + i;
                 int f = start[w] + i;
-                if (e >= 0 && e < ROOM && f >= 0 && f < ROOM) {
+                if (e >= 0 && e < EDGES && f >= 0 && f < EDGES) {
                     first = Long.compare(label[e], label[f]);
                     first = first != 0 ? first : order(child[e], child[f], depth + 1);
                 }
@@ -2757,7 +2758,7 @@ public final class ShapeLang {
         /** The least value of the first of the first states that has one; NONE if none has one. */
         int solve(int roots) {
             for (int n = 1; n <= MOST_NODES; n++) {
-                for (int s = 0; s < count; s++) {
+                for (int s = 0; s < count && s < STATES; s++) {
                     boolean changed = get(s, SEEN) != settled || get(s, WAIT) <= n;
                     if (get(s, VALUE) == NONE && changed) {
                         settle(s, n);
@@ -2791,8 +2792,14 @@ public final class ShapeLang {
                     for (int j = 0; j < others && schemas.kindOf(p) == kind; j++) {
                         int q = hasSecond() ? part(1, j) : NONE;
                         if (q == NONE || isAlike(p, q)) {
+                            pool.hold();
                             pickAgainst(p);
-                            value = lesser(value, kind == RECORD ? recordOf(s, p, q, n) : kind == TAGGED ? taggedOf(s, p, q, n) : rowOf(s, p, q, n));
+                            int other = kind == RECORD ? recordOf(s, p, q, n) : kind == TAGGED ? taggedOf(s, p, q, n) : rowOf(s, p, q, n);
+                            boolean first = other != NONE && (value == NONE || pool.order(other, value, 0) < 0);
+                            value = first ? other : value;
+                            if (!first) {
+                                pool.letGo();
+                            }
                         }
                     }
                 }
@@ -2862,13 +2869,6 @@ public final class ShapeLang {
         }
 
         // -- values with values in them
-
-        private int lesser(int v, int w) {
-            if (v == NONE || w == NONE) {
-                return v == NONE ? w : v;
-            }
-            return pool.order(w, v, 0) < 0 ? w : v;
-        }
 
         private int taggedOf(int s, int p, int q, int n) {
             avoidInner();
