@@ -26,6 +26,15 @@ public final class ShapeTest {
         told("P18 " + one + " in " + other, x, x.witness(0, 0, 1, 0), due);
     }
 
+    /** The witness is 0 in so many lists: more than a slot could hold. */
+    private static void deepWitness(String one, String other, int lists) {
+        ShapeLang x = new ShapeLang();
+        Check.begin(x, one);
+        Check.begin(x, other);
+        C.is("P18 nodes of a deep one", x.witness(0, 0, 1, 0), lists + 1);
+        C.is("P18 a deep one", Check.out(x), "[".repeat(lists) + "0" + "]".repeat(lists));
+    }
+
     private static void common(String one, String other, String due) {
         ShapeLang x = new ShapeLang();
         Check.begin(x, one);
@@ -135,6 +144,10 @@ public final class ShapeTest {
         witness("R={a:[num;8..8],b:[num;8..8],c:[num;8..8],d:[num;8..8],e:[num;8..8],f:[num;8..8]};", "R=num;", "{a:[0,0,0,0,0,0,0,0],b:[0,0,0,0,0,0,0,0],c:[0,0,0,0,0,0,0,0],d:[0,0,0,0,0,0,0,0],e:[0,0,0,0,0,0,0,0],f:[0,0,0,0,0,0,0,0]}");
         witness("R={a:[num;8..8],b:[num;8..8],c:[num;8..8],d:[num;8..8],e:[num;8..8],f:[[num;4..4];1..1]};", "R=num;", "{a:[0,0,0,0,0,0,0,0],b:[0,0,0,0,0,0,0,0],c:[0,0,0,0,0,0,0,0],d:[0,0,0,0,0,0,0,0],e:[0,0,0,0,0,0,0,0],f:[[0,0,0,0]]}");
         least("R={a:[num;8..8],b:[num;8..8],c:[num;8..8],d:[num;8..8],e:[num;8..8],f:[[num;8..8];2..2]};", "");
+        // 59 deep: 2 and some 3 lists, but not 4 and 5 less one
+        String cycles = "R=@S|@T;S=num|[num|[num|[[@S]]]];T=num|[num|[num|[num|[[@T]]]]];";
+        deepWitness("R=[[@S;1..1];1..1];S=num(0..0)|[[[@S;1..1];1..1];1..1];", cycles, 59);
+        deepWitness("R=[@S;1..1];S=num(0..0)|[[[@S;1..1];1..1];1..1];", cycles, 19);
         common("R=num(0..5);", "R=num(4..9);", "4");
         common("R=num(-5..5);", "R=num(-9..-4);", "-4");
         common("R=num(0..5);", "R=num(6..9);", "");

@@ -90,7 +90,11 @@ public final class StoreTest {
         C.is("P34 with itself", x.conflicts(5, 5), 0);
         int clash = Check.change(x, 0, ShapeLang.RENAME, 0, 0, "b,z");
         C.is("P34 the ADD names b only in its sum", x.conflicts(mine, clash), 0);
-        C.noState("P35 but would be refused", () -> x.merge(Check.change(x, 0, ShapeLang.DROP, 0, 0, "b=0"), mineOf(x)));
+        int without = Check.change(x, 0, ShapeLang.DROP, 0, 0, "b=0");
+        int adding = x.parent(mine);
+        C.is("P34 no conflict", x.conflicts(without, adding), 0);
+        C.noState("P35 but the ADD would be refused", () -> x.merge(without, adding));
+        C.is("P35 nothing began", x.versions(), without + 1);
         int other = Check.change(x, clash, ShapeLang.RENAME, 0, 0, "z,x");
         C.is("P34 x is named by both", x.conflicts(one, other), 1);
         C.is("P34 the other way", x.conflicts(other, one), 1);
@@ -104,11 +108,6 @@ public final class StoreTest {
         C.noSuch("P34 other", () -> x.conflicts(0, -1));
         C.noSuch("P35 version", () -> x.merge(99, 0));
         C.noSuch("P35 other", () -> x.merge(0, -1));
-    }
-
-    /** The version that adds c by b. */
-    private static int mineOf(ShapeLang x) {
-        return 3;
     }
 
     private static void mergeLimits() {

@@ -3661,40 +3661,40 @@ public final class ShapeLang {
             return true;
         }
 
+        /** The next name in a text ahead of an end, from where it is being read; 0 if there is none. */
+        private int nextNamed(Buf text, int end) {
+            int name = 0;
+            boolean more = at >= 0;
+            for (int i = 0; i < TAPE_ROOM && more && at < end && at < text.bytes.length; i++) {
+                boolean letter = text.bytes[at] >= 'a' && text.bytes[at] <= 'z';
+                name = letter ? name * 27 + text.bytes[at] - 'a' + 1 : name;
+                more = letter || name == 0;
+                at++;
+            }
+            return name;
+        }
+
         /** Whether the sum of a default, if it is one, names only other fields of a { }. */
         private boolean namesFields(Version made, int i, int record) {
-            int end = made.sumEnd(i);
-            int name = 0;
-            for (int k = made.sumStart(i); k != NONE && k <= end; k++) {
-                int sign = k < end ? made.text.at(k) : NONE;
-                if (sign >= 'a' && sign <= 'z') {
-                    name = name * 27 + sign - 'a' + 1;
-                } else {
-                    if (name != 0 && (name == made.nameAt(i) || schemas.fieldNamed(record, name) == NONE)) {
-                        return false;
-                    }
-                    name = 0;
+            at = made.sumStart(i);
+            int name = nextNamed(made.text, made.sumEnd(i));
+            for (int k = 0; k < TAPE_ROOM && name != 0; k++) {
+                if (name == made.nameAt(i) || schemas.fieldNamed(record, name) == NONE) {
+                    return false;
                 }
+                name = nextNamed(made.text, made.sumEnd(i));
             }
             return true;
         }
 
-        /** Whether the sum of a default names a field. */
+        /** Whether the sum of a default, if it is one, names a field. */
         private boolean hangsOn(Version made, int i, int wanted) {
-            int end = made.sumEnd(i);
-            int name = 0;
-            for (int k = made.sumStart(i); k != NONE && k <= end; k++) {
-                int sign = k < end ? made.text.at(k) : NONE;
-                if (sign >= 'a' && sign <= 'z') {
-                    name = name * 27 + sign - 'a' + 1;
-                } else {
-                    if (name != 0 && name == wanted) {
-                        return true;
-                    }
-                    name = 0;
-                }
+            at = made.sumStart(i);
+            int name = nextNamed(made.text, made.sumEnd(i));
+            for (int k = 0; k < TAPE_ROOM && name != 0 && name != wanted; k++) {
+                name = nextNamed(made.text, made.sumEnd(i));
             }
-            return false;
+            return name != 0 && name == wanted;
         }
 
         /** Of the fields of ADD that are still to be found, the first one by name that hangs on none of them; NONE if all do. */
