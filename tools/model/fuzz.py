@@ -60,7 +60,36 @@ def simple():
     def ss(d): return '|'.join(sp(d) for _ in range(R.choice([1,1,2,2,3,4]) if d<2 else R.choice([1,1,2])))
     for d in defs: t+=d+'='+ss(0)+';'
     return t
+def bigshape(defs,dep,st):
+    n=R.choice([1,1,1,2,2,3,4,6,7]) if dep<2 else R.choice([1,1,1,2])
+    return '|'.join(bigpart(defs,dep,st) for _ in range(n))
+def bigpart(defs,dep,st):
+    st[0]-=1; c=R.random()
+    if st[0]<=0 or dep>12: c*=.5
+    if c<.2: return 'num' if R.random()<.4 else 'num(%d..%d)'%rnum()
+    if c<.3: return 'text' if R.random()<.4 else 'text(%s)'%ritems()
+    if c<.5: return '@'+R.choice(defs)
+    if c<.62: return '['+bigshape(defs,dep+1,st)+']'
+    if c<.8: return '{'+','.join(f+R.choice(['','?'])+':'+bigshape(defs,dep+1,st) for f in R.sample(NAMES,R.choice([0,1,2,3,6])))+'}'
+    if c<.92: return R.choice(TAGS)+'('+bigshape(defs,dep+1,st)+')'
+    return '<'+bigshape(defs,dep+1,st)+'>'
 def rschema():
+    if MODE=='big':
+        nd=R.choice([1,2,3,4,4,5]); defs=R.sample(['R','T','U','Vv','W'],nd); st=[R.choice([10,16,22,26])]
+        t=''
+        for i,d in enumerate(defs):
+            t+=d+'='+(rrec(defs,[3]) if R.random()<.4 else bigshape(defs,R.choice([0,0,1,2]),st))+';'
+        return t
+    if MODE=='deep':
+        k=R.choice([7,8,9,10,11]); pre='';post=''
+        for _ in range(k):
+            c=R.choice('[<T[')
+            if c=='[': pre+='[';post=']'+post
+            if c=='<': pre+='<';post='>'+post
+            if c=='T': pre+='T(';post=')'+post
+        core=R.choice(['num','@S','num|@R','num(0..9)','text(a)','Q(num)'])
+        pre2='['*R.choice([0,1,2]); post2=']'*len(pre2)
+        return R.choice(['R={a:%s,r:{b:num},c?:%s};S={x:num,y?:@S};'%(pre+core+post,pre2+'num(0..5)'+post2),'R=%s;S={a:num(0..99),r:{c?:@R}};'%(pre+core+post),'R={a:%s};S={f:num};'%(pre+core+post)])
     if MODE=='simple':
         for _ in range(200):
             t=simple(); f,dd=parse_schema(t)

@@ -1084,7 +1084,7 @@ public final class ShapeLang {
      */
     private static final class Schemas {
         private static final int SHELVES = VERSIONS + 1, ROOM = SHELVES * MOST_PARTS, NAMES = SHELVES * MOST_DEFINITIONS;
-        private static final int ANY = 26, STAR = 1;
+        private static final int ANY = 26, STAR = 1, DOUBLE = 1 << MOST_PARTS;
 
         private final Pool pool;
         private final int[] kind = new int[ROOM];
@@ -1103,12 +1103,12 @@ public final class ShapeLang {
         private final int[] leadCount = new int[NAMES];
         private final int[] count = new int[SHELVES];
         private final int[] partEnd = new int[SHELVES];
+        /** For each shape those in the parts to which it leads, a bit each, and DOUBLE if it leads to two of a kind. */
         private final int[] next = new int[MOST_PARTS];
         private final int[] led = new int[MOST_LED * MOST_LED];
         private int shelf;
         private int fieldTop;
         private int itemTop;
-        private int doubles;
 
         Schemas(Pool values) {
             pool = values;
@@ -1247,7 +1247,6 @@ public final class ShapeLang {
         /** Whether no shape leads to too many parts, and the shapes that lead to two of a kind are few and not in themselves. */
         boolean isSpread() {
             Arrays.fill(next, 0);
-            doubles = 0;
             for (int d = 0; d < count[shelf]; d++) {
                 if (!isPlaceSound(shape[shelf * MOST_DEFINITIONS + d])) {
                     return false;
@@ -1264,7 +1263,11 @@ public final class ShapeLang {
                     return false;
                 }
             }
-            return Integer.bitCount(doubles) <= 2 && !isDoubleInItself();
+            int doubles = 0;
+            for (int place = 0; place < MOST_PARTS; place++) {
+                doubles += (next[place] & DOUBLE) != 0 ? 1 : 0;
+            }
+            return doubles <= 2 && !isDoubleInItself();
         }
 
         private int bitOf(int shapeCode) {
@@ -1280,7 +1283,7 @@ public final class ShapeLang {
                 return false;
             }
             if (crowd == 2) {
-                doubles |= bitOf(shapeCode);
+                next[place] |= DOUBLE;
             }
             for (int i = 0; i < found && i < led.length; i++) {
                 int p = led[i];
@@ -1313,7 +1316,7 @@ public final class ShapeLang {
 
         private boolean isDoubleInItself() {
             for (int place = 0; place < MOST_PARTS; place++) {
-                int reached = (doubles >> place & 1) != 0 ? next[place] : 0;
+                int reached = (next[place] & DOUBLE) != 0 ? next[place] : 0;
                 for (int round = 0; round < MOST_PARTS; round++) {
                     for (int b = 0; b < MOST_PARTS; b++) {
                         reached |= (reached >> b & 1) != 0 ? next[b] : 0;
