@@ -11,7 +11,7 @@ public final class ShapeLang {
     private static final int NUMBER = 0, TEXT = 1, LIST = 2, RECORD = 3, TAGGED = 4, MAP = 5, REF = 6, NOTHING = 7;
 
     private static final int TAPE_ROOM = 600, SLOTS = 8, VERSIONS = 12, DOCUMENTS = 12;
-    private static final int MOST_NODES = 60, MOST_AROUND = 12, MOST_BRACKETS = 12, MOST_ITEMS = 8;
+    private static final int MOST_NODES = 60, MOST_AROUND = 12, MOST_BRACKETS = 12, MOST_ITEMS = 8, MOST_LETTERS = 8;
     private static final int MOST_NUMBER = 9999, MOST_PARTS = 24, MOST_LED = 6, MOST_FIELDS = 6, MOST_DEFINITIONS = 4;
     private static final int MOST_STEPS = 8, MOST_SMALL = 3, MOST_GROWTH = 4, MOST_FACTOR = 100, MOST_SHRUNK = 20;
     /** A guard on recursion over values: no value that is built here stands deeper. */
@@ -825,6 +825,36 @@ public final class ShapeLang {
             stackTop = 0;
         }
 
+        /** Gives up a value and all that were made since. */
+        void drop(int v) {
+            if (v >= heldTop && v < top && v < ROOM) {
+                top = v;
+                edgeTop = start[v];
+            }
+        }
+
+        /** Brings a value that was made since those that are held down to them; all others made since are given up. */
+        int bringDown(int v) {
+            int to = heldTop;
+            if (v < to || v >= top || to < 0 || v >= ROOM) {
+                return v;
+            }
+            kind[to] = kind[v];
+            nodes[to] = nodes[v];
+            around[to] = around[v];
+            code[to] = code[v];
+            size[to] = size[v];
+            int from = start[v];
+            start[to] = heldEdgeTop;
+            for (int i = 0; i < size[to] && heldEdgeTop + i < EDGES && from + i < EDGES && from >= heldEdgeTop && heldEdgeTop >= 0; i++) {
+                label[heldEdgeTop + i] = label[from + i];
+                child[heldEdgeTop + i] = child[from + i];
+            }
+            top = to + 1;
+            edgeTop = heldEdgeTop + size[to];
+            return to;
+        }
+
         int kindOf(int v) {
             return v >= 0 && v < ROOM ? kind[v] : NONE;
         }
@@ -1470,16 +1500,12 @@ public final class ShapeLang {
             return p >= 0 && p < ROOM && (mask >> high[p] & 1) != 0;
         }
 
-        /** The letters that the items name, a as bit 0. */
-        int lettersNamed(int p) {
-            int letters = 0;
+        /** The sign of the item behind a place, 0 for a, ANY for any letter; NONE if there is none. No items are any letters. */
+        int signAt(int p, int place) {
             int first = p >= 0 && p < ROOM ? low[p] : 0;
             int count = p >= 0 && p < ROOM ? high[p] : 0;
-            for (int i = 0; i < count && i < MOST_ITEMS && first + i >= 0 && first + i < item.length; i++) {
-                int sign = item[first + i] / 3;
-                letters |= sign == ANY ? 0 : 1 << sign;
-            }
-            return letters;
+            boolean is = place >= 0 && place < count && first + place >= 0 && first + place < item.length;
+            return is ? item[first + place] / 3 : count == 0 && place == 0 ? ANY : NONE;
         }
 
         private boolean fits(long letters, int p) {
@@ -2406,156 +2432,203 @@ public final class ShapeLang {
         }
     }
 
-    /** Searches for the first text that fits one of some parts, one of some others, and none of still others. */
+    /**
+     * Searches for the first text that fits one of some parts, one of some others, and none of still others. It is
+     * spelled letter by letter, each one being the first with which the text can still be ended. Nothing that was
+     * tried is kept, so that there is no bound on how much there is to try.
+     */
     private static final class Texts {
-        private static final int PATTERNS = 56, WIDE = 8, ROWS = 1000, PACKED = 7;
+        private static final int PLACES = MOST_ITEMS + 1, ROOM = Solver.AGAINST * MOST_LED, EVERY = (1 << Schemas.ANY) - 1;
 
         private final Schemas schemas;
-        private final int[] pattern = new int[PATTERNS];
-        /** Where the patterns of each of the three sides end. */
-        private final int[] end = new int[3];
-        /** Two halves, one for the texts in hand, one for those with a letter more: the places in each pattern. */
-        private final long[] row = new long[2 * ROWS * WIDE];
-        private final long[] text = new long[2 * ROWS];
-        private final long[] fresh = new long[WIDE];
-        private int wide;
-        private boolean needsSecond;
+        /** The parts that the text must fit; the second one is NONE if there is just one. */
+        private int first;
+        private int second;
+        /** The parts that it must not fit. */
+        private final int[] avoided = new int[ROOM];
+        private int avoidedCount;
+        /** By how many letters are to come: for each avoided part the places from which these can lead to its end. */
+        private final int[][] ends = new int[MOST_LETTERS + 1][ROOM];
+        /** By how many letters are to come, and by places in the first part: the places in the second one from which both can end. */
+        private final int[][] meets = new int[MOST_LETTERS + 1][PLACES];
+        /** By how many letters there are: the places in the two parts, and those in each avoided part from which it can still end. */
+        private final int[][] places = new int[MOST_LETTERS + 1][2 + ROOM];
 
         Texts(Schemas shapes) {
             schemas = shapes;
         }
 
         /** The letters of the text; NONE if there is none. The sides are the parts to which shapes lead. */
-        long find(int[][] lead, int[] leadCount, boolean second) {
-            needsSecond = second;
-            if (!gather(lead, leadCount)) {
+        long find(int[][] lead, int[] leadCount) {
+            if (lead.length < 3 || leadCount.length < 3) {
                 return NONE;
             }
-            startRow();
-            int count = 1;
-            for (int letters = 0; letters <= 8 && count > 0; letters++) {
-                int half = letters % 2;
-                for (int i = 0; i < count && i < ROWS; i++) {
-                    if (isFound(half * ROWS + i)) {
-                        return text[half * ROWS + i];
+            takeAvoided(lead[2], leadCount[2]);
+            int others = leadCount[1] == NONE ? 1 : leadCount[1];
+            long best = NONE;
+            for (int i = 0; i < leadCount[0] && i < lead[0].length; i++) {
+                for (int j = 0; j < others && j < lead[1].length; j++) {
+                    first = lead[0][i];
+                    second = leadCount[1] == NONE ? NONE : lead[1][j];
+                    boolean areTexts = schemas.kindOf(first) == TEXT && (second == NONE || schemas.kindOf(second) == TEXT);
+                    long found = areTexts ? firstText() : NONE;
+                    best = found != NONE && (best == NONE || found < best) ? found : best;
+                }
+            }
+            return best;
+        }
+
+        private void takeAvoided(int[] lead, int leadCount) {
+            avoidedCount = 0;
+            for (int i = 0; i < leadCount && i < lead.length; i++) {
+                if (schemas.kindOf(lead[i]) == TEXT && avoidedCount < ROOM) {
+                    avoided[avoidedCount] = lead[i];
+                    ends[0][avoidedCount] = 1 << schemas.highOf(lead[i]);
+                    for (int rest = 1; rest <= MOST_LETTERS; rest++) {
+                        ends[rest][avoidedCount] = endsBefore(lead[i], ends[rest - 1][avoidedCount]);
                     }
+                    avoidedCount++;
                 }
-                count = letters < 8 ? grow(half, count) : 0;
             }
-            return NONE;
         }
 
-        /** Takes the patterns; false if one side that is needed has none. */
-        private boolean gather(int[][] lead, int[] leadCount) {
-            int count = 0;
-            for (int side = 0; side < 3 && side < lead.length && side < leadCount.length; side++) {
-                for (int i = 0; i < leadCount[side] && i < lead[side].length; i++) {
-                    if (schemas.kindOf(lead[side][i]) == TEXT && count < PATTERNS) {
-                        pattern[count] = lead[side][i];
-                        count++;
+        /** The places in a part from which one letter can lead to one of some others. */
+        private int endsBefore(int p, int wanted) {
+            int found = 0;
+            for (int i = 0; i < PLACES; i++) {
+                int sign = schemas.signAt(p, i);
+                found |= sign != NONE && (schemas.stepPlaces(p, 1 << i, sign) & wanted) != 0 ? 1 << i : 0;
+            }
+            return found;
+        }
+
+        /** The first text that fits the two parts, and none of the avoided ones; NONE if there is none. */
+        private long firstText() {
+            findMeets();
+            long text = NONE;
+            for (int letters = 0; letters <= MOST_LETTERS && text == NONE; letters++) {
+                start(letters);
+                text = canEnd(0, letters) ? 0 : NONE;
+                for (int behind = 0; behind < letters && text != NONE; behind++) {
+                    int letter = 0;
+                    step(behind, letters - behind, places[behind][0], letter);
+                    while (letter < Schemas.ANY - 1 && !canEnd(behind + 1, letters - behind - 1)) {
+                        letter++;
+                        step(behind, letters - behind, places[behind][0], letter);
                     }
-                }
-                end[side] = count;
-            }
-            wide = count / PACKED + 1;
-            return end[0] > 0 && (!needsSecond || end[1] > end[0]);
-        }
-
-        private static int placesIn(long[] from, int base, int p) {
-            int at = base + p / PACKED;
-            return at >= 0 && at < from.length ? (int) (from[at] >>> (p % PACKED * 9)) & 511 : 0;
-        }
-
-        private void addFresh(int p, int places) {
-            int at = p / PACKED;
-            if (at >= 0 && at < fresh.length) {
-                fresh[at] |= (long) places << (p % PACKED * 9);
-            }
-        }
-
-        private void startRow() {
-            Arrays.fill(fresh, 0);
-            for (int p = 0; p < end[2] && p < PATTERNS; p++) {
-                addFresh(p, schemas.startPlaces(pattern[p]));
-            }
-            putFresh(0, 0);
-        }
-
-        private void putFresh(int at, long letters) {
-            int base = at * WIDE;
-            for (int w = 0; w < wide && w < WIDE && base + w < row.length; w++) {
-                row[base + w] = fresh[w];
-            }
-            if (at >= 0 && at < text.length) {
-                text[at] = letters;
-            }
-        }
-
-        private boolean endsOne(int at, int from, int to) {
-            for (int p = from; p < to && p < PATTERNS; p++) {
-                if (schemas.endsIn(pattern[p], placesIn(row, at * WIDE, p))) {
-                    return true;
+                    text = text * 27 + letter + 1;
                 }
             }
-            return false;
+            return text;
         }
 
-        private boolean isFound(int at) {
-            return endsOne(at, 0, end[0]) && (!needsSecond || endsOne(at, end[0], end[1])) && !endsOne(at, end[1], end[2]);
-        }
-
-        /** Of letters that no pattern names the first one stands for all. */
-        private int lettersToTry() {
-            int named = 0;
-            for (int p = 0; p < end[2] && p < PATTERNS; p++) {
-                named |= schemas.lettersNamed(pattern[p]);
+        private void findMeets() {
+            for (int i = 0; i < PLACES; i++) {
+                meets[0][i] = i == schemas.highOf(first) ? 1 << schemas.highOf(second) : 0;
             }
-            return named | (~named & (named + 1));
-        }
-
-        /** The texts with a letter more, each row of places once, with its first text. */
-        private int grow(int half, int count) {
-            int letters = lettersToTry();
-            int to = (1 - half) * ROWS;
-            int grown = 0;
-            for (int i = 0; i < count && i < ROWS; i++) {
-                for (int letter = 0; letter < 26; letter++) {
-                    boolean tried = (letters >> letter & 1) != 0 && grown < ROWS;
-                    if (tried && stepFresh(half * ROWS + i, letter) && !isKnown(to, grown)) {
-                        putFresh(to + grown, text[half * ROWS + i] * 27 + letter + 1);
-                        grown++;
+            for (int rest = 1; rest <= MOST_LETTERS; rest++) {
+                for (int i = 0; i < PLACES; i++) {
+                    meets[rest][i] = 0;
+                    for (int j = 0; j < PLACES; j++) {
+                        meets[rest][i] |= leadOn(rest, i, j) ? 1 << j : 0;
                     }
                 }
             }
-            return grown;
         }
 
-        /** Tells whether a text can still come of it. */
-        private boolean stepFresh(int at, int letter) {
-            Arrays.fill(fresh, 0);
-            boolean first = false;
-            boolean second = !needsSecond;
-            for (int p = 0; p < end[2] && p < PATTERNS; p++) {
-                int places = schemas.stepPlaces(pattern[p], placesIn(row, at * WIDE, p), letter);
-                addFresh(p, places);
-                first = first || places != 0 && p < end[0];
-                second = second || places != 0 && p >= end[0] && p < end[1];
-            }
-            return first && second;
+        /** Whether a letter can lead from places in both parts to some from which both can end. */
+        private boolean leadOn(int rest, int i, int j) {
+            int sign = schemas.signAt(first, i);
+            int other = schemas.signAt(second, j);
+            boolean fit = sign != NONE && other != NONE && (sign == other || sign == Schemas.ANY || other == Schemas.ANY);
+            int letter = sign == Schemas.ANY ? other : sign;
+            int mine = fit ? schemas.stepPlaces(first, 1 << i, letter) : 0;
+            return fit && areMet(mine, schemas.stepPlaces(second, 1 << j, letter), rest - 1);
         }
 
-        private boolean isKnown(int from, int count) {
-            for (int i = 0; i < count; i++) {
-                boolean same = true;
-                for (int w = 0; w < wide && w < WIDE && same; w++) {
-                    int at = (from + i) * WIDE + w;
-                    same = at >= 0 && at < row.length && row[at] == fresh[w];
-                }
-                if (same) {
-                    return true;
+        private boolean areMet(int mine, int others, int rest) {
+            boolean met = false;
+            for (int i = 0; i < PLACES && rest >= 0 && rest < meets.length; i++) {
+                met = met || (mine >> i & 1) != 0 && (meets[rest][i] & others) != 0;
+            }
+            return met;
+        }
+
+        private void start(int letters) {
+            places[0][0] = schemas.startPlaces(first);
+            places[0][1] = schemas.startPlaces(second);
+            for (int k = 0; k < avoidedCount && k < ROOM && letters >= 0 && letters < ends.length; k++) {
+                places[0][2 + k] = schemas.startPlaces(avoided[k]) & ends[letters][k];
+            }
+        }
+
+        /** By a letter, of those that are still to come, to the next places, in the first part from some alone. */
+        private void step(int behind, int rest, int from, int letter) {
+            if (behind < 0 || behind + 1 >= places.length || rest < 1 || rest > ends.length) {
+                return;
+            }
+            places[behind + 1][0] = schemas.stepPlaces(first, from, letter);
+            places[behind + 1][1] = schemas.stepPlaces(second, places[behind][1], letter);
+            for (int k = 0; k < avoidedCount && k < ROOM; k++) {
+                places[behind + 1][2 + k] = schemas.stepPlaces(avoided[k], places[behind][2 + k], letter) & ends[rest - 1][k];
+            }
+        }
+
+        /** Whether the letters that are to come can lead the two parts to their ends, and no avoided one. */
+        private boolean canEnd(int behind, int rest) {
+            if (behind < 0 || behind >= places.length || !areMet(places[behind][0], places[behind][1], rest)) {
+                return false;
+            }
+            boolean open = false;
+            for (int k = 0; k < avoidedCount && k < ROOM; k++) {
+                open = open || places[behind][2 + k] != 0;
+            }
+            for (int sign = Schemas.ANY; sign >= 0 && open && rest > 0; sign--) {
+                int from = placesOf(places[behind][0], sign);
+                int idle = sign == Schemas.ANY && from != 0 ? idleLetter(behind, rest) : sign;
+                int last = idle == NONE ? Schemas.ANY - 1 : idle;
+                for (int letter = idle == NONE ? 0 : idle; letter <= last && from != 0; letter++) {
+                    step(behind, rest, from, letter);
+                    if (canEnd(behind + 1, rest - 1)) {
+                        return true;
+                    }
                 }
             }
-            return false;
+            return !open;
+        }
+
+        /** Of places in the first part those ahead of a sign. */
+        private int placesOf(int from, int sign) {
+            int found = 0;
+            for (int i = 0; i < PLACES; i++) {
+                found |= (from >> i & 1) != 0 && schemas.signAt(first, i) == sign ? 1 << i : 0;
+            }
+            return found;
+        }
+
+        /**
+         * A letter with which each avoided part can go on only where it can with any letter: where the first part
+         * takes any letter, no other one is better. NONE if there is none, or the second part could need another one.
+         */
+        private int idleLetter(int behind, int rest) {
+            if (second != NONE || behind < 0 || behind >= places.length || rest < 1 || rest > ends.length) {
+                return NONE;
+            }
+            int busy = 0;
+            for (int k = 0; k < avoidedCount && k < ROOM; k++) {
+                int from = places[behind][2 + k];
+                int least = schemas.stepPlaces(avoided[k], from, Schemas.ANY) & ends[rest - 1][k];
+                for (int i = 0; i < PLACES && from != 0; i++) {
+                    int sign = (from >> i & 1) != 0 ? schemas.signAt(avoided[k], i) : NONE;
+                    boolean named = sign != NONE && sign != Schemas.ANY;
+                    busy |= named && (schemas.stepPlaces(avoided[k], from, sign) & ends[rest - 1][k]) != least ? 1 << sign : 0;
+                }
+            }
+            int letter = NONE;
+            for (int i = Schemas.ANY - 1; i >= 0; i--) {
+                letter = (busy >> i & 1) == 0 ? i : letter;
+            }
+            return letter;
         }
     }
 
@@ -2764,7 +2837,11 @@ public final class ShapeLang {
                 for (int s = 0; s < count && s < STATES; s++) {
                     boolean changed = get(s, SEEN) != settled || get(s, WAIT) <= n;
                     if (get(s, VALUE) == NONE && changed) {
-                        settle(s, n);
+                        load(s);
+                        int number = n == 1 ? leastNumber() : FAR;
+                        long letters = n == 1 && number == FAR ? texts.find(lead, leadCount) : NONE;
+                        int leaf = number != FAR ? pool.number(number) : letters != NONE ? pool.text(letters) : NONE;
+                        settle(s, leaf != NONE ? leaf : around(s, n));
                     }
                 }
                 for (int s = 0; s < roots && s < count; s++) {
@@ -2776,18 +2853,17 @@ public final class ShapeLang {
             return NONE;
         }
 
-        /** Gives a state its value, if that has just so many nodes. */
-        private void settle(int s, int n) {
-            load(s);
+        private void settle(int s, int value) {
+            set(s, VALUE, value);
+            settled += value == NONE ? 0 : 1;
+        }
+
+        /** The least value of a state that has others in it, if it has just so many nodes; NONE otherwise. */
+        private int around(int s, int n) {
             set(s, SEEN, settled);
             set(s, WAIT, FAR);
+            pool.hold();
             int value = NONE;
-            if (n == 1) {
-                int number = leastNumber();
-                value = number == FAR ? NONE : pool.number(number);
-                long letters = value == NONE ? texts.find(lead, leadCount, hasSecond()) : NONE;
-                value = letters == NONE ? value : pool.text(letters);
-            }
             for (int kind = LIST; kind <= MAP && value == NONE; kind++) {
                 for (int i = 0; i < leadCount[0]; i++) {
                     int p = part(0, i);
@@ -2795,22 +2871,23 @@ public final class ShapeLang {
                     for (int j = 0; j < others && schemas.kindOf(p) == kind; j++) {
                         int q = hasSecond() ? part(1, j) : NONE;
                         if (q == NONE || isAlike(p, q)) {
-                            pool.hold();
                             pickAgainst(p);
                             int other = kind == RECORD ? recordOf(s, p, q, n) : kind == TAGGED ? taggedOf(s, p, q, n) : rowOf(s, p, q, n);
-                            boolean first = other != NONE && (value == NONE || pool.order(other, value, 0) < 0);
-                            value = first ? other : value;
-                            if (!first) {
-                                pool.letGo();
-                            }
+                            value = lesser(value, other);
                         }
                     }
                 }
             }
-            if (value != NONE) {
-                set(s, VALUE, value);
-                settled++;
+            return value;
+        }
+
+        /** The lesser one of two values, of which the second one was made last; the other one is given up. */
+        private int lesser(int value, int other) {
+            if (other == NONE || value != NONE && pool.order(other, value, 0) >= 0) {
+                pool.drop(other);
+                return value;
             }
+            return pool.bringDown(other);
         }
 
         private boolean isAlike(int p, int q) {
