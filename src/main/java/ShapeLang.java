@@ -784,7 +784,8 @@ public final class ShapeLang {
      */
     private static final class Pool {
         private static final int KEPT = (DEFAULT_REGION + (VERSIONS + 1) * DEFAULTS) * MOST_NODES;
-        private static final int ROOM = KEPT + 10000, EDGES = KEPT + 24000, STACK = 1024;
+        /** Each state of the solver can have a value of its own, with no more than eight in it. */
+        private static final int ROOM = KEPT + Solver.STATES + 10000, EDGES = KEPT + Solver.STATES * MOST_ITEMS + 24000, STACK = 1024;
 
         private final int[] kind = new int[ROOM];
         private final int[] nodes = new int[ROOM];
@@ -1371,6 +1372,18 @@ public final class ShapeLang {
 
         static int alone(int part) {
             return part * 8 + 1;
+        }
+
+        /** A shape that is a REF alone is that to which it leads. */
+        int behindRef(int shapeCode, int version) {
+            int found = shapeCode;
+            for (int i = 0; i < MOST_DEFINITIONS; i++) {
+                int p = found >> 3;
+                boolean alone = (found & 7) == 1 && p >= 0 && p < ROOM && kind[p] == REF;
+                int d = alone ? version * MOST_DEFINITIONS + low[p] : NONE;
+                found = d >= 0 && d < NAMES ? shape[d] : found;
+            }
+            return found;
         }
 
         /** The place behind the last part of a version; its first one is on the place of its shelf. */
@@ -2638,7 +2651,7 @@ public final class ShapeLang {
      * by rising nodes.
      */
     private static final class Solver {
-        private static final int STATES = 5000, HASH = 16384, AGAINST = 6, SETS = 1 << AGAINST, FAR = 10000;
+        private static final int STATES = 10000, HASH = 32768, AGAINST = 6, SETS = 1 << AGAINST, FAR = 10000;
         /** The places in the row of a state. */
         private static final int FIRST = 0, SECOND = 1, NOTS = 2, NOT = 3, VALUE = NOT + AGAINST, SEEN = VALUE + 1, WAIT = SEEN + 1, SPOT = WAIT + 1, STRIDE = SPOT + 1;
         /** The rows of the fields of records that are put together. */
@@ -2683,8 +2696,8 @@ public final class ShapeLang {
         /** The next task is the least value that is of the first shape and not of the second one. */
         void askApart(int shape, int by, int other, int otherBy) {
             reset(by, by, otherBy);
-            keyCount = 1;
-            key[0] = other;
+            keyCount = 0;
+            addKey(other);
             stateOf(shape, NONE);
         }
 
@@ -2757,7 +2770,8 @@ public final class ShapeLang {
         }
 
         /** Puts a shape into the key, once, by rising numbers. */
-        private void addKey(int shape) {
+        private void addKey(int told) {
+            int shape = schemas.behindRef(told, version[2]);
             int at = keyCount;
             for (int i = 0; i < keyCount && i < key.length; i++) {
                 if (key[i] == shape) {
@@ -2788,7 +2802,9 @@ public final class ShapeLang {
         }
 
         /** The state of two shapes, or one, and of the key, found or begun; NONE if there is no more room. */
-        private int stateOf(int first, int second) {
+        private int stateOf(int told, int other) {
+            int first = schemas.behindRef(told, version[0]);
+            int second = other == NONE ? NONE : schemas.behindRef(other, version[1]);
             int mix = first * 31 + second;
             for (int i = 0; i < keyCount && i < key.length; i++) {
                 mix = mix * 31 + key[i];
