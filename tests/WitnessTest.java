@@ -489,7 +489,34 @@ public final class WitnessTest {
         return true;
     }
 
+    /** Shapes that lead to two of a kind twice, in rings of unlike length: many sets of shapes are to be kept out of. */
+    private static void rings() {
+        String[] lists = {
+            "A=@B|[@B;1..1];B=[[@D;0..1]|@C;2..5];C=[[[[[[@D;3..3];0..1];2..2];2..2]]];D=[[[[[[[@C;3..4];3..3];0..1];0..3]]];2..5];",
+            "A=[@B;3..3]|@B;B=[@D|@C;0..2];C=[[[[[[@C;2..3];2..4];1..1];2..4];0..2];3..6];D=[[[[[[[[@D;1..3]|num;2..2];2..4]|text;2..2];2..2];1..4];1..4];1..4];",
+            "A=[@B]|[[@B]];B=[[@C]|[@D]];C=[[[[[@C]]]]];D=[[[[[[[@D]]]]]]];",
+            "A=[@B;1..1]|[[@B;1..1];1..1];B=[[@C;1..1]|[@D;1..1];1..1];C=[[[[@C;1..1];1..1]|num;1..1];1..1];D=[[[[[[@D;1..1];1..1];1..1]|num;1..1];1..1];1..1];"};
+        for (String one : lists) {
+            for (String other : lists) {
+                ShapeLang x = new ShapeLang();
+                Check.begin(x, one);
+                Check.begin(x, other);
+                for (int d = 0; d < 4; d++) {
+                    C.is("P18 of itself " + one + d, x.witness(0, d, 0, d), ShapeLang.NONE);
+                    int nodes = x.witness(0, 0, 1, d);
+                    C.is("P18 a value or none " + one + other + d, nodes == ShapeLang.NONE ? 0 : 1, Check.out(x).isEmpty() ? 0 : 1);
+                    if (nodes != ShapeLang.NONE) {
+                        C.is("P18 nodes " + one + other + d, Check.put(x, 0, Check.out(x)), nodes);
+                        C.is("P18 of the first " + one + other + d, x.isOf(0, 0, 0) ? 1 : 0, 1);
+                        C.is("P18 not of the second " + one + other + d, x.isOf(1, d, 0) ? 1 : 0, 0);
+                    }
+                }
+            }
+        }
+    }
+
     public static void main(String[] args) {
+        rings();
         random = new Random(args.length > 0 ? Long.parseLong(args[0]) : 20);
         int pairs = args.length > 1 ? Integer.parseInt(args[1]) : 250;
         int most = args.length > 2 ? Integer.parseInt(args[2]) : 9;

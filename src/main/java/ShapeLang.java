@@ -828,7 +828,7 @@ public final class ShapeLang {
 
         /** Gives up a value and all that were made since. */
         void drop(int v) {
-            if (v >= heldTop && v < top && v < ROOM) {
+            if (v >= 0 && v >= heldTop && v < top && v < ROOM) {
                 top = v;
                 edgeTop = start[v];
             }
@@ -2451,7 +2451,7 @@ public final class ShapeLang {
      * tried is kept, so that there is no bound on how much there is to try.
      */
     private static final class Texts {
-        private static final int PLACES = MOST_ITEMS + 1, ROOM = Solver.AGAINST * MOST_LED, EVERY = (1 << Schemas.ANY) - 1;
+        private static final int PLACES = MOST_ITEMS + 1, ROOM = Solver.AGAINST * MOST_LED;
 
         private final Schemas schemas;
         /** The parts that the text must fit; the second one is NONE if there is just one. */
@@ -2522,7 +2522,7 @@ public final class ShapeLang {
             for (int letters = 0; letters <= MOST_LETTERS && text == NONE; letters++) {
                 start(letters);
                 text = canEnd(0, letters) ? 0 : NONE;
-                for (int behind = 0; behind < letters && text != NONE; behind++) {
+                for (int behind = 0; behind < letters && behind < places.length && text != NONE; behind++) {
                     int letter = 0;
                     step(behind, letters - behind, places[behind][0], letter);
                     while (letter < Schemas.ANY - 1 && !canEnd(behind + 1, letters - behind - 1)) {
