@@ -41,6 +41,19 @@ public final class TapeTest {
         c.noState("P2 603 bytes", () -> x.feed(0, 8));
         c.is("P2 600 bytes", x.feed(0, 5), 600);
         c.noState("P2 take again", () -> x.put(0));
+        for (int n = 1; n <= 8; n++) {
+            int bytes = n;
+            for (int free = 0; free < n; free++) {
+                ShapeLang y = new ShapeLang();
+                Check.feed(y, " ".repeat(600 - free));
+                int room = free;
+                c.noState("P2 " + n + " bytes, room for " + free, () -> y.feed(0, bytes));
+                c.is("P2 the tape stays", Seen.tape(y), room == 0 ? 600 : 600 - room);
+            }
+            ShapeLang y = new ShapeLang();
+            Check.feed(y, " ".repeat(600 - n));
+            c.is("P2 just the room for " + n, y.feed(0, n), 600);
+        }
         // promise 3
         c.is("P3 fault", x.fault(), 0);
         Check.put(x, 0, "[1,2]");
@@ -63,6 +76,49 @@ public final class TapeTest {
         c.is("P5 wraps nowhere", x.word(1 << 29), 0);
         c.noState("P4 show of nothing", () -> x.show(7));
         c.is("P4 the out stays", x.length(), 13);
+        bytes(c);
+        manyCalls(c);
         c.end("TapeTest");
+    }
+
+    /** All bits of the bytes come on the tape, and no others: seen by forms of eight numbers of eight bits. */
+    private static void bytes(Check c) {
+        ShapeLang x = new ShapeLang();
+        Check.begin(x, "R=[num(0..255);8..8];");
+        for (int n = 1; n <= 8; n++) {
+            x.feed(0xf8e7d6c5b4a39281L, n);
+            if (n < 8) {
+                x.feed(0, 8 - n);
+            }
+            x.decode(0, 64, 0);
+            StringBuilder due = new StringBuilder("[");
+            for (int i = 0; i < 8; i++) {
+                due.append(i == 0 ? "" : ",").append(i < n ? (int) (0xf8e7d6c5b4a39281L >>> (8 * i) & 255) : 0);
+            }
+            c.is("P2 the lowest " + n + " bytes", Check.show(x, 0), due + "]");
+        }
+        Check.feedBits(x, "1111000010000001".repeat(4));
+        x.decode(0, 64, 0);
+        x.encode(0, 0);
+        c.is("P5 bytes with the highest bit", x.word(0), 0x81f081f081f081f0L);
+        c.is("P5 behind them", x.word(1), 0);
+        c.is("P5 ahead of them", x.word(-1), 0);
+        c.is("P5 far behind", x.word(Integer.MAX_VALUE), 0);
+        c.is("P5 far ahead", x.word(Integer.MIN_VALUE), 0);
+        c.is("P5 a place that would wrap to 0", x.word(1 << 29), 0);
+        c.is("P5 another place that would wrap to 0", x.word(-(1 << 29)), 0);
+        c.is("P5 a place that would wrap to the last byte", x.word((1 << 29) + 1), 0);
+    }
+
+    /** The 512th call answers like the first one. */
+    private static void manyCalls(Check c) {
+        ShapeLang x = new ShapeLang();
+        Check.begin(x, "R={a?:@R}|num;");
+        for (int call = 3; call < 512; call += 3) {
+            x.feed('7', 1);
+            c.is("put", x.put(call % 8), 1);
+            c.is("witness", x.witness(0, 0, 0, 0), ShapeLang.NONE);
+        }
+        c.is("the 512th call", x.least(0, 0), 1);
     }
 }
