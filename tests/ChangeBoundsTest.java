@@ -199,6 +199,8 @@ public final class ChangeBoundsTest {
     private static void movingAndLifting() {
         move("with its shape", "R={f:num|text,r:{}};", "f,r", "R={r:{f:num|text}};");
         move("with its ?", "R={f?:num,r:{z?:num}};", "f,r", "R={r:{f?:num,z?:num}};");
+        move("others stay", "R={a?:text,f:num,m:{f:num},r:{z?:num},z:num(0..1)|none};", "f,r", "R={a?:text,m:{f:num},r:{f:num,z?:num},z:num(0..1)|none};");
+        lift("others stay", "R={a?:text,m:{f:num},r:{f:num,z?:num},z:num(0..1)|none};", "r,f", "R={a?:text,f:num,m:{f:num},r:{z?:num},z:num(0..1)|none};");
         move("into a field with ?", "R={f:num,r?:{}};", "f,r", NO);
         move("into two parts", "R={f:num,r:{}|num};", "f,r", NO);
         move("into an @", "R={f:num,r:@S};S={};", "f,r", NO);
@@ -221,6 +223,16 @@ public final class ChangeBoundsTest {
 
     private static void wrapping() {
         wrap("a shape of two parts", "R={a?:num|text};", "a,T", "R={a?:T(num|text)};");
+        wrap("others stay", "R={a?:text,b:num,c?:num(0..1)|none};", "b,T", "R={a?:text,b:T(num),c?:num(0..1)|none};");
+        unwrap("others stay", "R={a?:T(text),b:T(num),c?:num(0..1)|none};", "b", "R={a?:T(text),b:num,c?:num(0..1)|none};");
+        retype("others stay", "R={a?:text,b:num,c?:num(0..1)|none};", "b:text='x'", "R={a?:text,b:text,c?:num(0..1)|none};");
+        rename("others stay", "R={a?:text,b:num,c?:num(0..1)|none};", "b,d", "R={a?:text,c?:num(0..1)|none,d:num};");
+        relax("others stay", "R={a?:text,b:num,c?:num(0..1)|none};", "b", "R={a?:text,b?:num,c?:num(0..1)|none};");
+        require("others stay", "R={a?:text,b?:num,c?:num(0..1)|none};", "b=1", "R={a?:text,b:num,c?:num(0..1)|none};");
+        drop("others stay", "R={a?:text,b?:num,c?:num(0..1)|none};", "b=1", "R={a?:text,c?:num(0..1)|none};");
+        add("others stay", "R={a?:text,c?:num(0..1)|none};", "b?:@R=1", "R={a?:text,b?:@R,c?:num(0..1)|none};");
+        split("others stay", "R={a?:text,b:num(0..9),c?:num(0..1)|none};", 5, "b,d,e", "R={a?:text,c?:num(0..1)|none,d:num(0..1),e:num(0..4)};");
+        join("others stay", "R={a?:text,b:num(0..9),c?:num(0..1)|none,d:num(0..1)};", 5, "b,d,e", "R={a?:text,c?:num(0..1)|none,e:num(0..46)};");
         wrap("a Tag of 4", "R={a:num};", "a,Abcd", "R={a:Abcd(num)};");
         wrap("a Tag of 5", "R={a:num};", "a,Abcde", "6");
         unwrap("one Tag alone", "R={a?:T(num|text)};", "a", "R={a?:num|text};");
@@ -351,6 +363,11 @@ public final class ChangeBoundsTest {
         add("none of the definition, deep in the sum", "R={a:num};", "b:num=(a+(1*(a-cc)))", NO);
         add("the second default", "R={a:num};", "b:num=1,c:num=(d)", NO);
         add("itself", "R={a:num};", "b:num=(b)", NO);
+        for (String name : new String[] {"z", "zz", "az", "za", "abcz", "zzzz"}) {
+            add("none of the definition, " + name, "R={a:num};", "b:num=(" + name + ")", NO);
+            add("none of the definition behind another one, " + name, "R={a:num};", "b:num=(a*" + name + ")", NO);
+            add("one of the definition, " + name, "R={" + name + ":num};", "b:num=(" + name + ")", name.length() == 1 ? "R={b:num,z:num};" : "R={b:num," + name + ":num};");
+        }
         add("of a field that is no number", "R={a:num};", "b:text=(a)", "R={a:num,b:text};");
         drop("another one", "R={a:num,b:num};", "a=(b)", "R={b:num};");
         drop("itself", "R={a:num,b:num};", "a=(a)", NO);
@@ -367,6 +384,9 @@ public final class ChangeBoundsTest {
     private static void rings() {
         add("two", "R={};", "a:num=(b),b:num=(a)", NO);
         add("three", "R={};", "a:num=(b),b:num=(c),c:num=(a)", NO);
+        add("two, named behind others", "R={a:num};", "b:num=(a+c),c:num=(a-b)", NO);
+        add("two, named behind INTs", "R={};", "b:num=(1*c),c:num=(2+(3*b))", NO);
+        add("two, named last of four", "R={a:num,d:num};", "b:num=(a+d+a+c),c:num=(a+d+d+b)", NO);
         add("two beside others", "R={z:num};", "a:num=(z),b:num=(c+a),c:num=(b)", NO);
         add("six in a row", "R={};", "a:num=(b),b:num=(c),c:num=(d),d:num=(e),e:num=(f),f:num=1", "R={a:num,b:num,c:num,d:num,e:num,f:num};");
         add("six in a ring", "R={};", "a:num=(b),b:num=(c),c:num=(d),d:num=(e),e:num=(f),f:num=(a)", NO);

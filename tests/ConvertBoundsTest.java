@@ -132,6 +132,17 @@ public final class ConvertBoundsTest {
         sum("a field that is a text", "num", "(c+3)", "{c:'zz'}", "3");
         sum("a field that is a list", "num", "(d+3)", "{d:[8]}", "3");
         sum("deep brackets", "num", "((((((((((((b+1))))))))))))", "{b:6}", "7");
+        // an @ stands for what it leads to
+        for (int n : new int[] {2, 7, 9}) {
+            String rest = ";S=text(a)|num(2..3)|@T;T=num(7..7)|num(9..9);";
+            ahead("a sum of the shape by @", "R={}" + rest, ShapeLang.ADD, 0, "a:@S=(" + n + ")", "{}", "{a:" + n + "}");
+            back("a sum of the shape by @", "R={a:@S}" + rest, ShapeLang.DROP, 0, "a=(" + n + ")", "{}", "{a:" + n + "}");
+            ahead("a sum not of the shape by @", "R={}" + rest, ShapeLang.ADD, 0, "a:@S=(" + (n - 1) + ")", "{}", "{a:2}");
+            ahead("a sum of the last part by @", "R={}" + rest, ShapeLang.ADD, 0, "a:<num>|@T=(" + n + ")", "{}", n == 2 ? "{a:7}" : "{a:" + n + "}");
+        }
+        ahead("of a field that is found first, named second", "R={b:num};", ShapeLang.ADD, 0, "a:num=(b+c),c:num=5", "{b:4}", "{a:9,b:4,c:5}");
+        ahead("of a field that is found first, named last", "R={b:num};", ShapeLang.ADD, 0, "a:num=(b*1-b+c),c:num=5", "{b:4}", "{a:5,b:4,c:5}");
+        ahead("of a field a that comes by it, and of another one", "R={};", ShapeLang.ADD, 0, "a:num=4,b:num=(a+c),c:num=5", "{}", "{a:4,b:9,c:5}");
         ahead("a sum of fields that come by it", "R={};", ShapeLang.ADD, 0, "a:num=(c+1),b?:num=(a+1),c:num=5", "{}", "{a:6,b:7,c:5}");
         ahead("of what such a field is in the end", "R={};", ShapeLang.ADD, 0, "a:num=(b),b:num(2..4)=(9)", "{}", "{a:2,b:2}");
         ahead("of such a field that is no number", "R={};", ShapeLang.ADD, 0, "a:num=(b+1),b:text='q'", "{}", "{a:1,b:'q'}");
@@ -386,6 +397,16 @@ public final class ConvertBoundsTest {
         noForm("endless over @", "R=A(@S);S=[@R;1..1];", "");
         noForm("no bits for a number", "R=num(0..1);", "");
         noForm("bits for nothing", "R={};", "0");
+        ShapeLang x = new ShapeLang();
+        Check.begin(x, "R=num(0..511);");
+        Check.begin(x, "R=num(0..255);");
+        for (int sign : new int[] {0, 255}) {
+            x.feed(sign, 1);
+            C.noState("P25 9 bits of 8", () -> x.decode(0, 9, 0));
+            x.feed(sign, 1);
+            C.is("P25 8 bits of 8", x.decode(1, 8, 0), 1);
+            C.is("P25 their number", Check.show(x, 0), "" + sign);
+        }
     }
 
     private static String letters(String text) {

@@ -261,6 +261,8 @@ public final class RelationBoundsTest {
         infer("6 names in two", 1, "{a?:num(1..1),b?:num(2..2),c?:num(3..3),d?:num(4..4),e?:num(5..5),f?:num(6..6)}", "{a:1,b:2,c:3}", "{d:4,e:5,f:6}");
         infer("7 names in two", 1, "<num(1..7)>", "{a:1,b:2,c:3,d:7}", "{d:4,e:5,f:6,g:4}");
         infer("7 names and maps are one < >", 1, "num(0..0)|A(num(1..1))|<num(1..7)|text(z)>", "{a:1,b:2,c:3,d:4,e:5,f:6,g:7}", "<'z':'z'>", "0", "A(1)");
+        infer("6 names and a map", 1, "{a:text(q)}|<num(1..1)>", "{a:'q'}", "<'x':1>");
+        infer("7 names and items of lists", 1, "[text(q);1..1]|A(text(r))|<num(1..7)>", "{a:1,b:2,c:3,d:4,e:5,f:6,g:7}", "['q']", "A('r')");
         infer("7 names with empty ones", 1, "<num(1..7)>", "{}", "{a:1,b:2,c:3,d:4,e:5,f:6,g:7}");
         infer("7 names inside", 1, "[<num(1..7)>;1..1]", "[{a:1,b:2,c:3,d:4,e:5,f:6,g:7}]");
         infer("8 names", 1, "<num(1..8)>", "{a:1,b:2,c:3,d:4,e:5,f:6,g:7,h:8}");

@@ -218,6 +218,11 @@ public final class ShapeBoundsTest {
             odd("three of a kind inside", "R={z:" + row(kind, 3, "|") + "};");
             good("two of a kind over @", "R=" + kind + "|@S;S=" + kind + ";");
             odd("three of a kind over @", "R=" + kind + "|@S;S=" + row(kind, 2, "|") + ";");
+            for (String[] around : new String[][] {{"[", "]"}, {"A(", ")"}, {"<", ">"}, {"A([", "])"}, {"<A(", ")>"}, {"{z:", "}"}}) {
+                odd("three of a kind in another one", "R=" + around[0] + row(kind, 3, "|") + around[1] + ";");
+                odd("three of a kind over @ in another one", "R=" + around[0] + "@S|" + kind + around[1] + ";S=" + row(kind, 2, "|") + ";");
+                odd("7 parts over @ in another one", "R=" + around[0] + "@S|num" + around[1] + ";S=num|num|num|num|num|num;");
+            }
             odd("three of a kind over @ three times", "R=@S|@S|@S;S=" + kind + ";");
             odd("three of a kind with others between", "R=" + kind + "|num|" + kind + "|text|" + kind + ";");
         }

@@ -92,6 +92,10 @@ public final class SmallBoundsTest {
         count("records", "R={a?:num,b?:num};", 1, 6, 9);
         count("records that must have both", "R={a:num,b:num};", 0, 0, 9);
         count("a record of three fields", "R={a:num,b:num,c:num};", 0, 0, 0);
+        count("6 fields", "R={a?:num,b?:num,c?:num,d?:num,e?:num,f?:num};", 1, 18, 135);
+        count("all of them in fields", "R={a?:@S,b?:@S};S=num|text|[none]|{}|<none>;", 1, 16, 64);
+        count("all of them in lists", "R=[@S];S=num|text|[none]|{}|<none>;", 1, 8, 64);
+        count("all of them in maps", "R=<@S>;S=num|text|[none]|{}|<none>;", 1, 16, 64);
         count("over @", "R=@S;S=[@T];T=num(0..0);", 1, 1, 1);
     }
 
@@ -130,6 +134,9 @@ public final class SmallBoundsTest {
         shrink("no smaller one of an empty list", "R=[num];", "R=none;", "[]", 0, "[]");
         shrink("no smaller one that is of the first one", "R=num(5..5)|num(3..3);", "R=none;", "5", 0, "5");
         shrink("no smaller one that is not of the second one", "R=num;", "R=num(-9999..4);", "5", 0, "5");
+        String seven = "[9,9,9,9,9,9,9]";
+        shrink("20 items of many", "R=[[num(9..9);1..8];8..8];", "R=none;", "[" + (seven + ",").repeat(7) + "[9,9]]", 20,
+            "[[9],[9],[9],[9,9,9,9,9]," + (seven + ",").repeat(3) + "[9,9]]");
         ShapeLang x = new ShapeLang();
         Check.begin(x, "R=num(101..9999);");
         Check.begin(x, "N=none;");
@@ -160,6 +167,8 @@ public final class SmallBoundsTest {
         shrink("not two letters at once", "R=text(a)|text(abc);", "R=none;", "'abc'", 0, "'abc'");
         shrink("not another letter", "R=text(aba)|text(abc);", "R=none;", "'abc'", 0, "'abc'");
         shrink("not another key", "R=<num(1..1)>;", "R=<none>;", "<'b':1>", 0, "<'b':1>");
+        shrink("a letter of a text inside", "R=[text(bc)|text(abc);1..1];", "R=none;", "['abc']", 1, "['bc']");
+        shrink("a letter of one text of two", "R={a:text(abc),b:text(ab)|text(abc)};", "R=none;", "{a:'abc',b:'abc'}", 1, "{a:'abc',b:'ab'}");
         shrink("the first item", "R=[num(2..2)]|[num(1..1)|num(2..2);3..3];", "R=[num;0..1];", "[1,2,2]", 1, "[2,2]");
         shrink("an item inside", "R=A([num(1..1);2..3]);", "R=none;", "A([1,1,1])", 1, "A([1,1])");
         shrink("not two items at once", "R=[num(1..1);1..1]|[num(1..1);3..3];", "R=none;", "[1,1,1]", 0, "[1,1,1]");

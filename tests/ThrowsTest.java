@@ -31,6 +31,13 @@ public final class ThrowsTest {
         Check.put(x, 2, "5");
         Check.put(x, 3, "{c:3}");
         Check.put(x, 4, "[1,A(1),B(1),C(1),D(1),E(1),F(1)]");
+        // slots that had a value once, and a schema that was nearly a version
+        for (int slot = 5; slot < 8; slot++) {
+            Check.put(x, slot, "{a:4}");
+            x.clear(slot);
+        }
+        Check.feed(x, "e:num=(f),f:num=(e)");
+        C.noState("a ring", () -> x.change(0, ShapeLang.ADD, 0, 0));
         x.write(0, 0);
         x.write(3, 2);
         Check.feed(x, ".a");
@@ -304,6 +311,7 @@ public final class ThrowsTest {
             leaves("P36 definition " + d, NO_SUCH, x -> x.small(0, d, 1));
             leaves("P36 definition ahead of nodes " + d, NO_SUCH, x -> x.small(0, d, 4));
             leaves("P37 definition " + d, NO_SUCH, x -> x.putSmall(0, d, 2, 0, 5));
+            leaves("P37 definition ahead of nodes " + d, NO_SUCH, x -> x.putSmall(0, d, 0, 0, 5));
             leaves("P38 definition " + d, NO_SUCH, x -> x.refuted(0, d, 0, 0, 1));
             leaves("P38 other definition ahead of nodes " + d, NO_SUCH, x -> x.refuted(0, 0, 0, d, 0));
             leaves("P39 definition " + d, NO_SUCH, x -> x.shrink(0, d, 0, 1, 0));
@@ -326,6 +334,10 @@ public final class ThrowsTest {
             leaves("P37 place " + place, NO_SUCH, x -> x.putSmall(0, 0, 2, place, 1));
         }
         leaves("P37 there is none", NO_SUCH, x -> x.putSmall(0, 0, 1, 0, 1));
+        leaves("P36 a definition of another version", NO_SUCH, x -> x.small(3, 1, 1));
+        leaves("P37 a definition of another version", NO_SUCH, x -> x.putSmall(3, 1, 2, 0, 5));
+        leaves("P38 a definition of another version", NO_SUCH, x -> x.refuted(0, 0, 3, 1, 1));
+        leaves("P39 a definition of another version", NO_SUCH, x -> x.shrink(0, 0, 3, 1, 0));
         leaves("P39 empty", STATE, x -> x.shrink(0, 0, 0, 1, 7));
         leaves("P39 not of the first one", STATE, x -> x.shrink(0, 0, 0, 1, 2));
         leaves("P39 of the second one", STATE, x -> x.shrink(0, 0, 0, 0, 0));

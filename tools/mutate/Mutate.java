@@ -22,7 +22,7 @@ import javax.tools.ToolProvider;
 /**
  * Breaks the class in one small place at a time and tells which breaks no test notices.
  * Arguments: shard, shards, the file for the report, first line, last line, and the names of the tests, the quick ones first.
- * Run from the top of the project.
+ * Run from the top of the project; with -Donly=FILE only breaks that an earlier report tells are made again.
  */
 public final class Mutate {
     private static final String SOURCE = "src/main/java/ShapeLang.java";
@@ -203,6 +203,11 @@ public final class Mutate {
         }
         String[] lines = text.split("\n", -1);
         List<Mutant> all = mutants(lines, first, last);
+        String only = System.getProperty("only");
+        if (only != null) {
+            String told = Files.readString(Path.of(only));
+            all.removeIf(m -> !told.contains("\n" + m.line() + ": " + lines[m.line() - 1].trim() + "\n    -> " + m.text().trim() + "\n"));
+        }
         console.println(all.size() + " mutants");
         int survived = 0;
         for (int m = shard; m < all.size(); m += shards) {
