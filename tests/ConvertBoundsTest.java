@@ -14,8 +14,8 @@ public final class ConvertBoundsTest {
             int nodes = ahead ? x.convert(0, 1, 0, 7) : x.convert(1, 0, 0, 7);
             String told = Check.show(x, 7);
             C.is("P22 the slot stays", Check.show(x, 0), value);
-            ShapeLang y = new ShapeLang();
-            C.is("P22 nodes of " + told, nodes, told.length() > 600 ? nodes : Check.put(y, 0, told));
+            C.is("P22 nodes of " + told, nodes, Check.put(x, 6, told));
+            C.is("P9 the same value", x.compare(6, 7), 0);
             return told;
         } catch (IllegalStateException e) {
             C.is("P22 the target stays", Check.show(x, 7), "'old'");
@@ -62,6 +62,8 @@ public final class ConvertBoundsTest {
         int nodes = x.decode(0, bits.length(), 7);
         C.is("P25 " + rule + ": " + bits, Check.show(x, 7), value);
         C.is("P25 nodes, " + rule, nodes, Check.put(x, 1, value));
+        C.is("P9 the same value, " + rule, x.compare(7, 1), 0);
+        C.is("P24 once more, " + rule, x.encode(0, 7), bits.length());
         C.is("P25 the tape is used up", Seen.tape(x), 0);
         if (!bits.isEmpty()) {
             noForm(rule + ", a bit less", schema, bits.substring(0, bits.length() - 1));

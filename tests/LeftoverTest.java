@@ -13,6 +13,7 @@ public final class LeftoverTest {
         slots();
         forms();
         smallOnes();
+        inferences();
         manyCalls();
         C.end("LeftoverTest");
     }
@@ -52,6 +53,13 @@ public final class LeftoverTest {
             C.is("a change behind it", Check.change(y, 0, ShapeLang.ADD, 0, 0, "b:num=(a+1*(2-a))"), 1);
             C.is("its schema", Check.schema(y, 1), "R={a:num,b:num};");
         }
+        ShapeLang z = new ShapeLang();
+        for (int i = 0; i < 40; i++) {
+            Check.feed(z, "R={a:text(abcdefgh),b:text(abcdefgh),c:[num;0..9]};");
+            C.noState("a schema with a fault", z::begin);
+        }
+        C.is("a schema behind many with faults", Check.begin(z, "R={a:text(abcdefgh),b:text(hgfedcba)};"), 0);
+        C.is("its text", Check.schema(z, 0), "R={a:text(abcdefgh),b:text(hgfedcba)};");
         for (String schema : schemas) {
             ShapeLang y = new ShapeLang();
             Check.feed(y, schema);
@@ -298,6 +306,23 @@ public final class LeftoverTest {
             Check.feedBits(x, bits[(v + 1) % 3]);
             x.decode((v + 1) % 3, bits[(v + 1) % 3].length(), 1);
             C.is("P25 by " + (v + 1) % 3, Check.show(x, 1), values[(v + 1) % 3]);
+        }
+    }
+
+    /** What was inferred ahead, or was not. */
+    private static void inferences() {
+        ShapeLang x = new ShapeLang();
+        Check.put(x, 0, "{a:[1,'a',{}],b:[1,'a',{}],c:[1,'a',{}],d:[1,'a',{}],e:[1,'a',{}],f:[1,'a']}");
+        Check.put(x, 1, "[1,[],{},<>,A(1),B(1),C(1)]");
+        Check.put(x, 2, "[[[[[[[[[[[[5]]]]]]]]]]]]");
+        for (int i = 0; i < 12; i++) {
+            C.noState("P21 too many parts", () -> x.infer(2, 1));
+            C.noState("P21 too deep", () -> x.infer(4, 1));
+            C.is("P21 24 parts", x.infer(1, 1), i);
+            C.is("P14 its bytes", x.schema(i), 181);
+        }
+        for (int i = 1; i < 12; i++) {
+            C.is("P15 the same signature", x.signature(i), x.signature(0));
         }
     }
 

@@ -158,6 +158,9 @@ public final class PathBoundsTest {
     private static void shapes() {
         goes("as they stand", "R={a:@S|num(-9999..9999)|[text;0..8]};S=num;", ".a", "@S|num|[text]");
         goes("the same text once", "R={a:num|text|num};", ".a", "num|text");
+        goes("the third text once", "R={a:num|text|none}|{a:none|text|num};", ".a", "num|text|none");
+        goes("the sixth text once", "R={a:num|text|none|{}|[num]|<num>}|{a:<num>|[num]|A(num)};", ".a", "num|text|none|{}|[num]|<num>|A(num)");
+        goes("a text that another one begins with", "R={a:num|num(0..1)|text|text(a)|text(ab)};", ".a", "num|num(0..1)|text|text(a)|text(ab)");
         goes("the same text of two { } once", "R={a:num|text}|{a:text|none};", ".a", "num|text|none");
         goes("the same text of two lists once", "R=[{b:num,a?:text}|num]|[{a?:text,b:num}];", "[]", "{a?:text,b:num}|num");
         goes("other texts of the same values", "R={a:num}|{a:num(-9999..9998)|@S};S=num;", ".a", "num|num(-9999..9998)|@S");
@@ -177,6 +180,14 @@ public final class PathBoundsTest {
         results("not items of a map", "R=[num]|<num>;", "<'':2,'a':1>", "[]");
         results("not values of a list", "R=[num]|<num>;", "[1]", "<>");
         results("not values of a record", "R={a:num}|<num>;", "{a:1}", "<>");
+        results("not what a map has by a key", "R={a:num}|<num>;", "<'a':5>", ".a");
+        results("not what a record has by a name", "R={a:num}|A(num);", "{a:5}", "!A");
+        results("not what a tagged value has", "R={a:num}|A(num);", "A(5)", ".a");
+        results("not what a list has", "R={a:num}|[num];", "[5]", ".a");
+        results("not what a list has by a Tag", "R=A(num)|[num];", "[5]", "!A");
+        results("not what a tagged value has as an item", "R=A(num)|[num];", "A(5)", "[]");
+        results("nothing of a number", "R={a:num}|num;", "5", ".a");
+        results("nothing of a text", "R=[num]|text;", "'a'", "[]");
         results("this Tag", "R=A(num)|B(num);", "A(3)", "!A", "3");
         results("another Tag", "R=A(num)|B(num);", "A(3)", "!B");
         results("a field of a value of another { }", "R=[{a:num}|{b:num}];", "[{b:1},{a:2}]", "[].b", "1");

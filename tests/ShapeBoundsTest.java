@@ -12,7 +12,8 @@ public final class ShapeBoundsTest {
         Check.feed(x, text);
         try {
             C.is(rule + ": " + text, x.begin(), 0);
-            C.is(rule + ": its text", Check.schema(x, 0), told);
+            C.is(rule + ": its bytes", x.schema(0), told.length());
+            C.is(rule + ": its text", Check.out(x), told);
         } catch (IllegalStateException e) {
             C.is(rule + ": fault of " + text, x.fault(), ShapeLang.NONE);
         }

@@ -10,6 +10,12 @@ public final class SmallBoundsTest {
         for (int i = 0; i < due.length; i++) {
             C.is("P37 bytes, " + rule, x.putSmall(0, 0, nodes, i, 7), due[i].length());
             C.is("P37 " + rule + " " + i, Check.show(x, 7), due[i]);
+            Check.put(x, 6, due[i]);
+            C.is("P9 the same value, " + rule, x.compare(6, 7), 0);
+            if (i > 0) {
+                Check.put(x, 5, due[i - 1]);
+                C.is("P37 by the order of values, " + rule, x.compare(5, 7), -1);
+            }
         }
         Check.put(x, 7, "'old'");
         C.noSuch("P37 behind the last one, " + rule, () -> x.putSmall(0, 0, nodes, due.length, 7));
@@ -46,6 +52,8 @@ public final class SmallBoundsTest {
         Check.put(x, 7, value);
         C.is("P39 times, " + rule + ": " + value, x.shrink(0, 0, 1, 0, 7), times);
         C.is("P39 " + rule + ": " + value, Check.show(x, 7), due);
+        Check.put(x, 6, due);
+        C.is("P9 the same value", x.compare(6, 7), 0);
         C.is("P39 is of the first one still", x.isOf(0, 0, 7) ? 1 : 0, 1);
         C.is("P39 and not of the second one", x.isOf(1, 0, 7) ? 1 : 0, 0);
     }

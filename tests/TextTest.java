@@ -200,6 +200,15 @@ public final class TextTest {
         C.is("P18 nodes " + one + " " + other, nodes, due.isEmpty() ? ShapeLang.NONE : Check.put(x, 0, due));
     }
 
+    /** Under T(U( )) 24 letters from one on are kept out as first ones, two by a part, and what more is told. */
+    private static String twoByTwo(char from, String more) {
+        StringBuilder all = new StringBuilder("B=T(U(");
+        for (int i = 0; i < 12; i++) {
+            all.append(i == 6 ? ")|U(" : i > 0 ? "|" : "").append("text(").append((char) (from + 2 * i)).append('?').append((char) (from + 2 * i + 1)).append("?.)");
+        }
+        return all + "))|T(U(" + more + "));";
+    }
+
     /** Where all letters are named there is none that keeps out of all parts. */
     private static void allLetters() {
         witness("A=text(...);", "B=text(a?b?.*)|text(d.*);", "");
@@ -208,6 +217,10 @@ public final class TextTest {
         witness("A=T(U(text(.)));", many + "))|T(U(text(b)));", "");
         witness("A=T(U(text(..)));", many + "))|T(U(text(a.)|text(b.)|text(c.)));", "T(U('da'))");
         witness("A=T(U(text(..)));", many + "|text(a.)|text(b.)|text(c.)))|T(U(text(d.)|text(e.)|text(f.)|text(g.)|text(h.)|text(i.)));", "T(U('ja'))");
+        // all first letters but one are kept out, and all 26 are named
+        witness("A=T(U(text(..)));", twoByTwo('a', "text(y.)|text(zz)"), "T(U('za'))");
+        witness("A=T(U(text(..)));", twoByTwo('b', "text(z.)|text(aa)"), "T(U('ab'))");
+        witness("A=T(U(text(..)));", twoByTwo('b', "text(z.)|text(a.)"), "");
         witness("A=text(........);", "B=text(a*b*c*)|text(.*);", "");
         witness("A=text(........);", "B=text(a*.a*)|text(.......a)|text(b.......);", "'aaaaaabb'");
         witness("A=text;", "B=text(.?.?.?)|text(....)|text(.....)|text(......)|text(.......)|text(.......a?);", "'aaaaaaab'");
