@@ -62,10 +62,15 @@ final class Check {
         }
     }
 
+    /** The out as a text; calls are spared, as an object has 512 of them. */
     static String out(ShapeLang x) {
         StringBuilder text = new StringBuilder();
-        for (int i = 0; i < x.length(); i++) {
-            text.append((char) (x.word(i / 8) >>> (8 * (i % 8)) & 255));
+        int bytes = x.length();
+        for (int i = 0; i < bytes; i += 8) {
+            long word = x.word(i / 8);
+            for (int k = 0; k < 8 && i + k < bytes; k++) {
+                text.append((char) (word >>> (8 * k) & 255));
+            }
         }
         return text.toString();
     }
