@@ -16,6 +16,7 @@ public final class ConvertTest {
         String told = Check.show(x, 5);
         C.is("P22 the old slot stays", Check.show(x, 2), value);
         C.is("P22 nodes", nodes, Check.put(x, 2, told));
+        C.is("P9 the same value", x.compare(2, 5), 0);
         return told;
     }
 
