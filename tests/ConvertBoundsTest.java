@@ -402,6 +402,13 @@ public final class ConvertBoundsTest {
         ShapeLang x = new ShapeLang();
         Check.begin(x, "R=num(0..511);");
         Check.begin(x, "R=num(0..255);");
+        int bit = Check.begin(x, "R=num(0..1);");
+        x.feed(0x7f, 1);
+        C.is("P25 what stands behind the bits does not count", x.decode(bit, 1, 0), 1);
+        C.is("P25 a bit that is 0", Check.show(x, 0), "0");
+        x.feed(0xff80, 2);
+        C.is("P25 nor in further bytes", x.decode(bit, 1, 0), 1);
+        C.is("P25 a bit that is 1", Check.show(x, 0), "1");
         for (int sign : new int[] {0, 255}) {
             x.feed(sign, 1);
             C.noState("P25 9 bits of 8", () -> x.decode(0, 9, 0));
