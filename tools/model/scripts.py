@@ -17,3 +17,6 @@ W={k:0 for k in BASE}; W.update({'witness':5,'common':3,'least':2,'isPlain':2,'s
 run('shapes',range(91001,91007),50,W,'simple')
 W={k:0 for k in BASE}; W.update({'change':10,'conv2':8,'rewrite':8,'merge':5,'conflicts':3,'losses':4,'write':3,'read':3,'move':2,'begin':1,'put':2})
 run('versions',range(92001,92011),60,W,'')
+import union; union.use()
+W={k:0 for k in BASE}; W.update({'change':12,'rewrite':12,'conv2':6,'merge':3,'conflicts':3,'losses':2,'query':4,'shapeOf':2})
+run('unions',range(93001,93011),45,W,'')
